@@ -1009,7 +1009,6 @@ public final class ThermoscopeGallery {
             if (thumbed == tube) {
                 thumbMinutes--;
                 if (thumbMinutes <= 0) {
-                    thumbMinutes = 0;
                     thumbed = NONE;
                 }
             }

@@ -179,22 +179,21 @@ public final class RandomCallsTest {
         int height = random.nextInt(300);
         int settled = x.minutesUntilSettled(0);
         int reached = x.minutesUntilHeight(0, height);
-        ThermoscopeGallery y = x;
-        y.save(0);
+        x.save(0);
         saved[0] = state;
         for (int i = 0; i < Math.min(minutes, 25); i++) {
-            Checks.is("settled at " + settled, y.isSettled(0) && (settled < 0 || settled > i), false);
-            Checks.is("height at " + reached, y.height(0) >= height && (reached < 0 || reached > i), false);
-            Checks.is("settled at " + settled, settled != i || y.isSettled(0), true);
-            Checks.is("height at " + reached, reached != i || y.height(0) >= height, true);
-            String now = Checks.state(y);
-            y.pass(1);
+            Checks.is("settled at " + settled, x.isSettled(0) && (settled < 0 || settled > i), false);
+            Checks.is("height at " + reached, x.height(0) >= height && (reached < 0 || reached > i), false);
+            Checks.is("settled at " + settled, settled != i || x.isSettled(0), true);
+            Checks.is("height at " + reached, reached != i || x.height(0) >= height, true);
+            String now = Checks.state(x);
+            x.pass(1);
             changed(now);
         }
-        String last = Checks.state(y);
-        y.restore(0);
+        String last = Checks.state(x);
+        x.restore(0);
         changed(last);
-        Checks.is("restored", Checks.state(y), state);
+        Checks.is("restored", Checks.state(x), state);
     }
 
     private String saveOrRestore(String state, int slot) {

@@ -18,6 +18,7 @@ public final class ScalesTest {
         promise54mark();
         promise55erasePoint();
         promises36and38and45comparisons();
+        promise45worstFitOfThree();
         promise44disagreement();
         promise47bathsToMark();
         promise48missedPoints();
@@ -253,6 +254,40 @@ public final class ScalesTest {
         Checks.is("reading below 0", low.reading(0), -1400);
         Checks.is("spread of readings below 0", low.spread(), 600);
         Checks.is("best", low.bestTube(), 0);
+        // -600 and 500, both at 1000
+        ThermoscopeGallery signs = Checks.loaded("gallery 20 1;spirit s 1;bath a 0;bath b 100;tube s 1 9 999 50;"
+                + "tube s 1 9 999 50;dip 0 a;dip 1 a;pass 1;mark 0;mark 1;fill 0 10;fill 1 10;dip 0 b;dip 1 b;pass 1;"
+                + "mark 0;mark 1;leak 0;leak 1;pass 50;seal 1;pass 110;");
+        Checks.is("reading", signs.reading(0), -600);
+        Checks.is("reading", signs.reading(1), 500);
+        Checks.is("best", signs.bestTube(), 1);
+        Checks.is("spread", signs.spread(), 1100);
+    }
+
+    private static void promise45worstFitOfThree() {
+        String text = "gallery 50 1;spirit s 1;bath a 0;bath b 100;bath m 50;";
+        for (int tube = 0; tube < 3; tube++) {
+            text += "tube s 1 9 999 0;";
+        }
+        ThermoscopeGallery x = Checks.loaded(text);
+        int[] middles = {70, 90, 80};
+        for (int tube = 0; tube < 3; tube++) {
+            x.dip(tube, 0);
+            x.pass(1);
+            x.mark(tube);
+            x.topUp(tube, middles[tube]);
+            x.dip(tube, 2);
+            x.pass(1);
+            x.mark(tube);
+            x.topUp(tube, 100 - middles[tube]);
+            x.dip(tube, 1);
+            x.pass(1);
+            x.mark(tube);
+            Checks.is("fit error", x.fitError(tube), 10 * middles[tube] - 500);
+        }
+        Checks.is("neither the first nor the last", x.worstFit(), 1);
+        x.erasePoint(1, 1);
+        Checks.is("the last", x.worstFit(), 2);
     }
 
     private static void promise44disagreement() {

@@ -113,6 +113,7 @@ public final class SetupTextTest {
         error("^galler 20 4;", 1);
         error("^galleryy 20 4;", 1);
         error("^gallerx 20 4;", 1);
+        error("^hallery 20 4;", 1);
         error("^20 4;", 1);
         error("^;", 1);
         error("gallery 20 4;^gallery 20 4;", 1);

@@ -139,6 +139,11 @@ public final class TubesTest {
         Checks.is("just the least ones", x.greatestTemperature(3), -191);
         Checks.is("just none", x.greatestTemperature(4), -1000);
         Checks.is("none", x.greatestTemperature(5), -1000);
+        // Two more in each tenth: 200 at -200
+        Checks.is("just the least", Checks.loaded("gallery 20 4;spirit s 40;tube s 50 1 201 0;").greatestTemperature(0),
+                -200);
+        Checks.is("just none", Checks.loaded("gallery 20 4;spirit s 40;tube s 50 1 199 0;").greatestTemperature(0),
+                -1000);
         Checks.refuses("greatestTemperature", x, Checks.INDEX, () -> x.greatestTemperature(6));
         Checks.refuses("greatestTemperature", x, Checks.INDEX, () -> x.greatestTemperature(-1));
     }
