@@ -115,6 +115,24 @@ public final class ScalesTest {
         Checks.is("lower point", x.scaleAt(0, 37), -100);
         Checks.is("between", x.scaleAt(0, 21), -100 + 564);
         Checks.is("fit error of two points", x.fitError(0), 0);
+        // The last point is erased, and it is the lower one, then the upper one.
+        x.dip(0, 1);
+        x.pass(1);
+        x.topUp(0, 10);
+        x.mark(0);
+        Checks.is("marked behind the others", x.pointDegrees(0, 2), 100);
+        x.erasePoint(0, 2);
+        Checks.is("upper point", x.scaleAt(0, 20), 500);
+        x.topUp(0, 1);
+        x.mark(0);
+        x.erasePoint(0, 1);
+        x.dip(0, 0);
+        x.pass(1);
+        x.topUp(0, 1);
+        x.mark(0);
+        x.erasePoint(0, 2);
+        Checks.is("lower point", x.scaleAt(0, 20), 500);
+        Checks.is("upper point", x.scaleAt(0, 48), 1000);
         // The heights decrease.
         ThermoscopeGallery y = Checks.loaded(EVEN + "dip 0 b;pass 1;mark 0;fill 0 17;dip 0 a;pass 1;mark 0;");
         Checks.is("upper point", y.scaleAt(0, 5), 1000);

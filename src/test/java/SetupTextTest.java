@@ -9,6 +9,7 @@ public final class SetupTextTest {
         promise4load();
         promises5and6gallery();
         promises5and6tokens();
+        promises5and6behindTheEnd();
         promises5and6names();
         promises5and6tubes();
         promises5and6deeds();
@@ -156,6 +157,28 @@ public final class SetupTextTest {
             full.append(' ');
         }
         room(full + "room 19;", 19);
+    }
+
+    /** Bytes that were cut off, or that would stand behind the 600th, belong to no token. */
+    private static void promises5and6behindTheEnd() {
+        cut("gallery 20 4;bath abcde", 22);
+        cut("gallery 20 4;room 151", 20);
+        cut("gallery 20 4;bath b 5;", 20);
+        StringBuilder full = new StringBuilder("gallery 20 4;");
+        while (full.length() < 596) {
+            full.append(' ');
+        }
+        error(full + "room^", 1);
+        error(full.substring(0, 593) + "room 15^", 1);
+    }
+
+    private static void cut(String text, int length) {
+        ThermoscopeGallery x = new ThermoscopeGallery();
+        Checks.put(x, text);
+        x.truncate(length);
+        Checks.is(text + " cut", x.load(), ThermoscopeGallery.PARSE_ERROR);
+        Checks.is(text + " cut: code", x.errorCode(), 1);
+        Checks.is(text + " cut: offset", x.errorOffset(), length);
     }
 
     private static void promises5and6names() {
@@ -310,6 +333,11 @@ public final class SetupTextTest {
         Checks.load(x, START + "leak 0;dip 0 b;pass 50;mark 0;thumb 0 5;");
         Checks.load(x, START);
         Checks.is("a fresh text", Checks.state(x), Checks.state(Checks.loaded(START)));
+        String marked = "gallery 20 1;spirit s 1;bath a 0;bath b 100;tube s 1 9 99 5;tube s 1 9 99 5;dip 1 a;pass 1;"
+                + "mark 1;fill 1 9;dip 1 b;pass 1;mark 1;";
+        Checks.load(x, marked);
+        Checks.load(x, START);
+        Checks.is("behind one with a scale", Checks.state(x), Checks.state(Checks.loaded(START)));
     }
 
     /** The mark ^ stands before the token that has the error. */

@@ -11,6 +11,7 @@ public final class TubesTest {
         promises7to10();
         promises11and12spirits();
         promises13to20tubes();
+        aFullGallery();
         promise21freeHeightAt();
         promise22greatestTemperature();
         promises15to17aMinute();
@@ -41,6 +42,8 @@ public final class TubesTest {
     private static void promises7to10() {
         ThermoscopeGallery x = Checks.loaded(PLAIN + "tube s 1 1 10 0;dip 0 h;dip 1 h;");
         Checks.is("minute", x.minute(), 0);
+        Checks.is("no thumb", x.thumbedTube(), -1);
+        Checks.is("no minutes of the thumb", x.thumbLeft(), 0);
         x.pass(300);
         x.pass(7);
         Checks.is("minute", x.minute(), 307);
@@ -112,6 +115,28 @@ public final class TubesTest {
             Checks.refuses("isLeaky", x, Checks.INDEX, () -> x.isLeaky(tube) ? 1 : 0);
             Checks.refuses("bathOf", x, Checks.INDEX, () -> x.bathOf(tube));
             Checks.refuses("height", x, Checks.INDEX, () -> x.height(tube));
+        }
+    }
+
+    private static void aFullGallery() {
+        StringBuilder text = new StringBuilder("gallery 20 4;spirit a 1;spirit b 2;spirit c 3;spirit d 4;spirit e 5;"
+                + "bath f 1;bath g 2;bath h 3;bath i 4;");
+        for (int i = 0; i < 8; i++) {
+            text.append("tube e 1 9 100 ").append(i).append(";dip ").append(i).append(" i;");
+        }
+        ThermoscopeGallery x = Checks.loaded(text + "thumb 7 60;");
+        Checks.is("no machine's exceptions", Checks.state(x).contains("Exception"), false);
+        Checks.is("thumbed", x.thumbedTube(), 7);
+        Checks.is("all in the last bath", x.tubesIn(3), 8);
+        Checks.is("all of the last spirit", x.spiritInTubes(4), 28);
+        Checks.is("tallest", x.tallestTube(), 7);
+        Checks.is("mean", x.meanHeight(), 3.5);
+        Checks.is("spread", x.spread(), 0);
+        for (int i = 0; i < 8; i++) {
+            int tube = i;
+            Checks.is("fill", x.fillOf(tube), tube);
+            Checks.is("spirit", x.spiritOf(tube), 4);
+            Checks.refuses("dip into the same", x, Checks.STATE, () -> x.dip(tube, 3));
         }
     }
 
