@@ -20,7 +20,7 @@ public final class ChangesTest {
     }
 
     private static void promise49spiritDifference() {
-        ThermoscopeGallery x = Checks.loaded(START + "leak 0;leak 1;fill 0 50;pass 33;fill 1 9;");
+        Replayed x = Checks.loaded(START + "leak 0;leak 1;fill 0 50;pass 33;fill 1 9;");
         Checks.is("after a text", x.spiritDifference(), 0);
         x.topUp(0, 200);
         Checks.is("after topUp", x.spiritDifference(), 0);
@@ -32,7 +32,7 @@ public final class ChangesTest {
     }
 
     private static void promise52dip() {
-        ThermoscopeGallery x = Checks.loaded(START);
+        Replayed x = Checks.loaded(START);
         Checks.is("dip", x.dip(0, 1), 1000);
         Checks.is("bath", x.bathOf(0), 1);
         Checks.is("the other one", x.bathOf(1), -1);
@@ -51,7 +51,7 @@ public final class ChangesTest {
     }
 
     private static void promise53lift() {
-        ThermoscopeGallery x = Checks.loaded(START + "dip 0 h;dip 1 c;");
+        Replayed x = Checks.loaded(START + "dip 0 h;dip 1 c;");
         Checks.is("lift", x.lift(0), 1);
         Checks.is("room", x.bathOf(0), -1);
         Checks.is("lift", x.lift(1), 0);
@@ -66,7 +66,7 @@ public final class ChangesTest {
     }
 
     private static void promise56layThumb() {
-        ThermoscopeGallery x = Checks.loaded(START);
+        Replayed x = Checks.loaded(START);
         Checks.is("from none", x.layThumb(1, 60), -1);
         Checks.is("from another", x.layThumb(0, 1), 1);
         Checks.is("minutes", x.thumbLeft(), 1);
@@ -83,7 +83,7 @@ public final class ChangesTest {
     }
 
     private static void promise57topUp() {
-        ThermoscopeGallery x = Checks.loaded(START);
+        Replayed x = Checks.loaded(START);
         Checks.is("topUp", x.topUp(0, 1), 6);
         Checks.is("fill", x.fillOf(0), 6);
         Checks.is("the other one", x.fillOf(1), 7);
@@ -96,13 +96,13 @@ public final class ChangesTest {
             Checks.refuses("topUp of no tube", x, Checks.INDEX, () -> x.topUp(2, amount));
         }
         Checks.refuses("topUp of no tube", x, Checks.INDEX, () -> x.topUp(-1, 1));
-        ThermoscopeGallery y = Checks.loaded("gallery 20 1;spirit s 10;tube s 20 2 100 0;");
+        Replayed y = Checks.loaded("gallery 20 1;spirit s 10;tube s 20 2 100 0;");
         Checks.is("the most at once", y.topUp(0, 999), 999);
         Checks.is("height", y.height(0), 100);
     }
 
     private static void promise58setRoom() {
-        ThermoscopeGallery x = Checks.loaded(START + "dip 1 h;");
+        Replayed x = Checks.loaded(START + "dip 1 h;");
         Checks.is("setRoom", x.setRoom(-20), 20);
         Checks.is("setRoom", x.setRoom(150), -20);
         Checks.is("setRoom", x.setRoom(150), 150);
@@ -116,7 +116,7 @@ public final class ChangesTest {
     }
 
     private static void promise59setLeaky() {
-        ThermoscopeGallery x = Checks.loaded(START);
+        Replayed x = Checks.loaded(START);
         Checks.is("setLeaky", x.setLeaky(0, true), false);
         Checks.is("leaky", x.isLeaky(0), true);
         Checks.is("the other one", x.isLeaky(1), false);
@@ -131,7 +131,7 @@ public final class ChangesTest {
     }
 
     private static void promise60pass() {
-        ThermoscopeGallery x = Checks.loaded(START + "leak 1;dip 0 h;");
+        Replayed x = Checks.loaded(START + "leak 1;dip 0 h;");
         // 135 of 100, but only 5 to spill
         Checks.is("pass", x.pass(1), 5);
         Checks.is("minute", x.minute(), 1);
@@ -140,13 +140,13 @@ public final class ChangesTest {
         for (int minutes : new int[] {0, -1, 301, Integer.MIN_VALUE, Integer.MAX_VALUE}) {
             Checks.refuses("pass", x, Checks.ARGUMENT, () -> x.pass(minutes));
         }
-        ThermoscopeGallery y = Checks.loaded("gallery 20 1;");
+        Replayed y = Checks.loaded("gallery 20 1;");
         Checks.is("without tubes", y.pass(300), 0);
         Checks.is("minute", y.minute(), 300);
     }
 
     private static void promises61and62saveAndRestore() {
-        ThermoscopeGallery x = Checks.loaded(START + "pass 3;thumb 0 9;");
+        Replayed x = Checks.loaded(START + "pass 3;thumb 0 9;");
         Checks.refuses("nothing is saved", x, Checks.STATE, () -> x.restore(0));
         String first = Checks.state(x);
         Checks.is("save", x.save(0), 3);
@@ -183,7 +183,7 @@ public final class ChangesTest {
     }
 
     private static void promise63undo() {
-        ThermoscopeGallery x = new ThermoscopeGallery();
+        Replayed x = new Replayed();
         Checks.refuses("undo of nothing", x, Checks.STATE, () -> x.undo());
         x.printTube(0);
         x.setRoom(0);
@@ -201,7 +201,7 @@ public final class ChangesTest {
     }
 
     private static void promise63undoOfEachChange() {
-        ThermoscopeGallery x = Checks.loaded(START + "dip 0 c;pass 1;");
+        Replayed x = Checks.loaded(START + "dip 0 c;pass 1;");
         x.save(0);
         Runnable[] changes = {
             () -> x.mark(0),
@@ -229,7 +229,7 @@ public final class ChangesTest {
     }
 
     private static void promise63sixChanges() {
-        ThermoscopeGallery x = Checks.loaded(START);
+        Replayed x = Checks.loaded(START);
         for (int i = 1; i <= 20; i++) {
             x.setRoom(i);
         }

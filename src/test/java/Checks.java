@@ -9,6 +9,7 @@ final class Checks {
 
     private static int wrong = 0;
     private static int done = 0;
+    private static String sentence = "";
 
     private Checks() {
     }
@@ -43,24 +44,38 @@ final class Checks {
     static void wrong(String message) {
         wrong++;
         if (wrong <= 50) {
-            System.out.println(message);
+            System.out.println(sentence.isEmpty() ? message : "\"" + sentence + "\": " + message);
         }
     }
 
+    /** What is tested next, in the words of DOC.md. */
+    static void sentence(String words) {
+        sentence = words;
+    }
+
     /** The call must throw just this class and leave every answer as it was. */
-    static void refuses(String what, ThermoscopeGallery x, Class<? extends RuntimeException> due, IntSupplier call) {
-        done++;
+    static void refuses(String what, Replayed x, Class<? extends RuntimeException> due, IntSupplier call) {
         String before = answers(x);
-        Class<?> thrown = null;
-        try {
-            call.getAsInt();
-        } catch (RuntimeException e) {
-            thrown = e.getClass();
-        }
+        throwing(what, due, call);
+        is(what + ": the answers afterwards", answers(x), before);
+    }
+
+    /** The call must throw just this class; null is for none. */
+    static void throwing(String what, Class<? extends RuntimeException> due, IntSupplier call) {
+        done++;
+        Class<?> thrown = thrown(call);
         if (thrown != due) {
             wrong(what + " threw " + thrown + ", due is " + due);
         }
-        is(what + ": the answers afterwards", answers(x), before);
+    }
+
+    static Class<?> thrown(IntSupplier call) {
+        try {
+            call.getAsInt();
+        } catch (RuntimeException e) {
+            return e.getClass();
+        }
+        return null;
     }
 
     static void finish(String name) {
@@ -69,7 +84,7 @@ final class Checks {
     }
 
     /** Appends a text in pieces of 20 bytes and cuts what is too much. */
-    static void put(ThermoscopeGallery x, String text) {
+    static void put(Replayed x, String text) {
         int length = 0;
         for (int i = 0; i < text.length(); i += 20) {
             length = x.append(four(text, i), four(text, i + 4), four(text, i + 8), four(text, i + 12),
@@ -80,7 +95,7 @@ final class Checks {
         }
     }
 
-    private static int four(String text, int from) {
+    static int four(String text, int from) {
         int value = 0;
         for (int i = from; i < from + 4; i++) {
             value = value << 8 | (i < text.length() ? text.charAt(i) & 255 : ' ');
@@ -88,18 +103,46 @@ final class Checks {
         return value;
     }
 
-    static int load(ThermoscopeGallery x, String text) {
+    static int load(Replayed x, String text) {
         put(x, text);
         return x.load();
     }
 
-    static ThermoscopeGallery loaded(String text) {
-        ThermoscopeGallery x = new ThermoscopeGallery();
+    static Replayed loaded(String text) {
+        Replayed x = new Replayed();
         is("load of " + text + ": error", load(x, text) < 0 ? x.errorCode() * 1000 + x.errorOffset() : 0, 0);
         return x;
     }
 
-    static String output(ThermoscopeGallery x) {
+    /** The mark ^ stands before the token that has the error. */
+    static void error(String marked, int code) {
+        int offset = marked.indexOf('^');
+        String text = marked.substring(0, offset) + marked.substring(offset + 1);
+        Replayed x = errorAt(text, offset, code);
+        is(marked + " state", state(x), state(new Replayed()));
+        load(x, "gallery 20 4;");
+        is("code after success", x.errorCode(), 0);
+        is("offset after success", x.errorOffset(), -1);
+    }
+
+    static Replayed errorAt(String text, int offset, int code) {
+        Replayed x = new Replayed();
+        is(text + " load", load(x, text), ThermoscopeGallery.PARSE_ERROR);
+        is(text + " code", x.errorCode(), code);
+        is(text + " offset", x.errorOffset(), offset);
+        return x;
+    }
+
+    /** A number in a text: both bounds are allowed, the first one beyond each is not. */
+    static void range(String before, int least, int most, String behind) {
+        loaded(before + least + behind);
+        loaded(before + most + behind);
+        // There are no numbers below 0: the minus sign is a token of its own.
+        errorAt(before + (least - 1) + behind, before.length(), least == 0 ? 1 : 2);
+        errorAt(before + (most + 1) + behind, before.length(), 2);
+    }
+
+    static String output(Replayed x) {
         StringBuilder text = new StringBuilder();
         try {
             for (int i = 0; i < 100; i++) {
@@ -111,7 +154,7 @@ final class Checks {
         return "endless";
     }
 
-    static String printed(ThermoscopeGallery x, int tube) {
+    static String printed(Replayed x, int tube) {
         int length = x.printTube(tube);
         String text = output(x);
         is("length of the output text", length, text.length());
@@ -128,12 +171,12 @@ final class Checks {
     }
 
     /** All answers but those about the input buffer and the saved states; with the output text and the error. */
-    static String answers(ThermoscopeGallery x) {
+    static String answers(Replayed x) {
         return state(x) + " error " + x.errorCode() + " " + x.errorOffset() + " output " + output(x);
     }
 
     /** All answers that undo brings back. */
-    static String state(ThermoscopeGallery x) {
+    static String state(Replayed x) {
         StringBuilder all = new StringBuilder();
         all.append(x.minute()).append(" room ").append(x.roomDegrees());
         all.append(" thumb ").append(x.thumbedTube()).append(" ").append(x.thumbLeft());
@@ -154,7 +197,7 @@ final class Checks {
         return all.toString();
     }
 
-    private static void appendTube(StringBuilder all, ThermoscopeGallery x, int tube) {
+    private static void appendTube(StringBuilder all, Replayed x, int tube) {
         all.append("\n  tube ").append(tube);
         all.append(answer(() -> x.spiritOf(tube))).append(answer(() -> x.fillOf(tube)));
         all.append(answer(() -> x.temperatureOf(tube))).append(answer(() -> x.surroundingsOf(tube)));

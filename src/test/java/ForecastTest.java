@@ -14,7 +14,7 @@ public final class ForecastTest {
     }
 
     private static void promises39and40after() {
-        ThermoscopeGallery x = Checks.loaded(WARMING + "tube s 20 2 300 5;");
+        Replayed x = Checks.loaded(WARMING + "tube s 20 2 300 5;");
         int[] tenths = {200, 400, 550, 662, 746};
         for (int i = 0; i < tenths.length; i++) {
             Checks.is("temperature after " + i, x.temperatureAfter(0, i), tenths[i]);
@@ -35,14 +35,14 @@ public final class ForecastTest {
         String before = Checks.state(x);
         x.temperatureAfter(0, 300);
         Checks.is("questions change nothing", Checks.state(x), before);
-        ThermoscopeGallery y = Checks.loaded("gallery 20 4;spirit s 1;tube s 1 9 999 50;leak 0;pass 5;");
+        Replayed y = Checks.loaded("gallery 20 4;spirit s 1;tube s 1 9 999 50;leak 0;pass 5;");
         Checks.is("leaks lower the height", y.heightAfter(0, 4), 50);
         Checks.is("leaks lower the height", y.heightAfter(0, 5), 49);
         Checks.is("leaks lower the height", y.heightAfter(0, 300), 20);
     }
 
     private static void promise41minutesUntilSettled() {
-        ThermoscopeGallery x = Checks.loaded(WARMING + "tube s 20 2 300 5;");
+        Replayed x = Checks.loaded(WARMING + "tube s 20 2 300 5;");
         Checks.is("from 20 to 100", x.minutesUntilSettled(0), 22);
         Checks.is("settled already", x.minutesUntilSettled(1), 0);
         x.pass(21);
@@ -53,14 +53,14 @@ public final class ForecastTest {
         // 242, 274, 298 and back to 200: 274, 256, 242, 232, 224, 218, 214, 211, 209, 207, 206, 205, 204, 203, 200
         Checks.is("after the thumb", x.minutesUntilSettled(1), 3 + 15);
         // The most that a lag of 20 takes: it still is less than 300.
-        ThermoscopeGallery slow = Checks.loaded("gallery -20 20;spirit s 1;bath h 150;tube s 1 1 10 0;dip 0 h;");
+        Replayed slow = Checks.loaded("gallery -20 20;spirit s 1;bath h 150;tube s 1 1 10 0;dip 0 h;");
         Checks.is("slowest", slow.temperatureAfter(0, slow.minutesUntilSettled(0)), 1500);
         Checks.refuses("minutesUntilSettled", x, Checks.INDEX, () -> x.minutesUntilSettled(2));
         Checks.refuses("minutesUntilSettled", x, Checks.INDEX, () -> x.minutesUntilSettled(-1));
     }
 
     private static void promise42minutesUntilSpill() {
-        ThermoscopeGallery x = Checks.loaded(WARMING + "tube s 20 2 300 5;tube s 20 2 55 5;tube s 20 2 54 5;"
+        Replayed x = Checks.loaded(WARMING + "tube s 20 2 300 5;tube s 20 2 55 5;tube s 20 2 54 5;"
                 + "tube s 20 2 10 0;");
         // 5 + (t + 300) / 10 > 110 from 760 on: 809 after 5 minutes
         Checks.is("spills", x.minutesUntilSpill(0), 5);
@@ -76,7 +76,7 @@ public final class ForecastTest {
         Checks.refuses("minutesUntilSpill", x, Checks.INDEX, () -> x.minutesUntilSpill(5));
         Checks.refuses("minutesUntilSpill", x, Checks.INDEX, () -> x.minutesUntilSpill(-1));
         // A lag of 20 warms so slowly that the last tenths come late: found by minutes that really pass.
-        ThermoscopeGallery late = Checks.loaded("gallery 20 20;spirit s 40;bath h 150;tube s 50 9 444 45;dip 0 h;");
+        Replayed late = Checks.loaded("gallery 20 20;spirit s 40;bath h 150;tube s 50 9 444 45;dip 0 h;");
         int due = late.minutesUntilSpill(0);
         Checks.is("late is not never", due > 50, true);
         Checks.is("no loss before", late.pass(due - 1), 0);
@@ -84,7 +84,7 @@ public final class ForecastTest {
     }
 
     private static void promise43minutesUntilHeight() {
-        ThermoscopeGallery x = Checks.loaded(WARMING);
+        Replayed x = Checks.loaded(WARMING);
         Checks.is("height 0", x.minutesUntilHeight(0, 0), 0);
         Checks.is("its height", x.minutesUntilHeight(0, 55), 0);
         Checks.is("more than its height", x.minutesUntilHeight(0, 56), 1);
@@ -101,7 +101,7 @@ public final class ForecastTest {
     }
 
     private static void promise46lossAfter() {
-        ThermoscopeGallery x = Checks.loaded("gallery 20 1;spirit s 10;spirit t 1;tube s 20 2 54 5;tube s 20 2 53 5;"
+        Replayed x = Checks.loaded("gallery 20 1;spirit s 10;spirit t 1;tube s 20 2 54 5;tube s 20 2 53 5;"
                 + "tube t 1 9 999 3;leak 2;pass 0;");
         Checks.is("none", x.lossAfter(0), 0);
         Checks.is("spills", x.lossAfter(1), 1 + 2);
@@ -120,7 +120,7 @@ public final class ForecastTest {
     }
 
     private static void theThumbIsForeseen() {
-        ThermoscopeGallery x = Checks.loaded("gallery 20 4;spirit s 10;tube s 20 2 300 5;thumb 0 3;");
+        Replayed x = Checks.loaded("gallery 20 4;spirit s 10;tube s 20 2 300 5;thumb 0 3;");
         int[] tenths = {200, 242, 274, 298, 274, 256};
         for (int i = 0; i < tenths.length; i++) {
             Checks.is("temperature after " + i, x.temperatureAfter(0, i), tenths[i]);

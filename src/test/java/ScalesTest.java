@@ -28,7 +28,7 @@ public final class ScalesTest {
     }
 
     private static void promises25to27points() {
-        ThermoscopeGallery x = Checks.loaded(THREE_POINTS);
+        Replayed x = Checks.loaded(THREE_POINTS);
         int[] degrees = {-10, 100, 50};
         int[] heights = {5, 18, 20};
         Checks.is("points", x.pointCount(0), 3);
@@ -48,7 +48,7 @@ public final class ScalesTest {
     }
 
     private static void promise28hasScale() {
-        ThermoscopeGallery x = Checks.loaded(EVEN + "dip 0 a;pass 1;");
+        Replayed x = Checks.loaded(EVEN + "dip 0 a;pass 1;");
         Checks.is("no point", x.hasScale(0), false);
         x.mark(0);
         Checks.is("one point", x.hasScale(0), false);
@@ -58,11 +58,11 @@ public final class ScalesTest {
     }
 
     private static void promises29and30reading() {
-        ThermoscopeGallery x = Checks.loaded(THREE_POINTS);
+        Replayed x = Checks.loaded(THREE_POINTS);
         // -100 + 1100 * 15 / 13
         Checks.is("reading", x.reading(0), 1169);
         Checks.is("reading error", x.readingError(0), 669);
-        ThermoscopeGallery y = Checks.loaded(EVEN + "tube wine 1 9 10 50;dip 1 a;pass 1;mark 1;");
+        Replayed y = Checks.loaded(EVEN + "tube wine 1 9 10 50;dip 1 a;pass 1;mark 1;");
         Checks.refuses("reading with one point", y, Checks.ELEMENT, () -> y.reading(1));
         Checks.refuses("reading with no point", y, Checks.ELEMENT, () -> y.reading(0));
         Checks.refuses("readingError with one point", y, Checks.ELEMENT, () -> y.readingError(1));
@@ -71,7 +71,7 @@ public final class ScalesTest {
         Checks.refuses("reading", y, Checks.INDEX, () -> y.reading(-1));
         Checks.refuses("readingError", y, Checks.INDEX, () -> y.readingError(2));
         Checks.refuses("readingError", y, Checks.INDEX, () -> y.readingError(-1));
-        ThermoscopeGallery z = Checks.loaded("gallery 20 1;spirit s 1;bath a 0;bath b 100;tube s 1 9 20 10;dip 0 a;"
+        Replayed z = Checks.loaded("gallery 20 1;spirit s 1;bath a 0;bath b 100;tube s 1 9 20 10;dip 0 a;"
                 + "pass 1;mark 0;fill 0 5;dip 0 b;pass 1;mark 0;room 90;lift 0;pass 1;");
         Checks.is("error below 0 is none", z.readingError(0), 100);
         z.setRoom(120);
@@ -82,14 +82,14 @@ public final class ScalesTest {
     }
 
     private static void promise31scaleAt() {
-        ThermoscopeGallery x = Checks.loaded(TWO_POINTS);
+        Replayed x = Checks.loaded(TWO_POINTS);
         Checks.is("lower point", x.scaleAt(0, 5), -100);
         Checks.is("upper point", x.scaleAt(0, 18), 1000);
         Checks.is("the quotient is truncated, not the sum", x.scaleAt(0, 6), -100 + 84);
         Checks.is("truncated, not rounded down", x.scaleAt(0, 4), -100 - 84);
         Checks.is("least", x.scaleAt(0, 0), -100 - 423);
         Checks.is("greatest", x.scaleAt(0, 999), -100 + 84107);
-        ThermoscopeGallery y = Checks.loaded(EVEN);
+        Replayed y = Checks.loaded(EVEN);
         for (int height : new int[] {-1, 1000, Integer.MIN_VALUE, Integer.MAX_VALUE}) {
             Checks.refuses("scaleAt " + height, x, Checks.ARGUMENT, () -> x.scaleAt(0, height));
             Checks.refuses("scaleAt without a scale", y, Checks.ARGUMENT, () -> y.scaleAt(0, height));
@@ -101,7 +101,7 @@ public final class ScalesTest {
 
     private static void scaleOfPointsInAnyOrder() {
         // 50 first, then 100, then -10: the upper point is the lowest.
-        ThermoscopeGallery x = Checks.loaded(EVEN + "fill 0 15;dip 0 m;pass 1;mark 0;lift 0;fill 0 1;dip 0 b;pass 1;"
+        Replayed x = Checks.loaded(EVEN + "fill 0 15;dip 0 m;pass 1;mark 0;lift 0;fill 0 1;dip 0 b;pass 1;"
                 + "mark 0;fill 0 16;dip 0 a;pass 1;mark 0;");
         Checks.is("upper point", x.scaleAt(0, 21), 1000);
         Checks.is("lower point", x.scaleAt(0, 37), -100);
@@ -134,7 +134,7 @@ public final class ScalesTest {
         Checks.is("lower point", x.scaleAt(0, 20), 500);
         Checks.is("upper point", x.scaleAt(0, 48), 1000);
         // The heights decrease.
-        ThermoscopeGallery y = Checks.loaded(EVEN + "dip 0 b;pass 1;mark 0;fill 0 17;dip 0 a;pass 1;mark 0;");
+        Replayed y = Checks.loaded(EVEN + "dip 0 b;pass 1;mark 0;fill 0 17;dip 0 a;pass 1;mark 0;");
         Checks.is("upper point", y.scaleAt(0, 5), 1000);
         Checks.is("lower point", y.scaleAt(0, 22), -100);
         Checks.is("between", y.scaleAt(0, 20), -100 + 129);
@@ -143,25 +143,25 @@ public final class ScalesTest {
     }
 
     private static void promise32fitError() {
-        ThermoscopeGallery x = Checks.loaded(THREE_POINTS);
+        Replayed x = Checks.loaded(THREE_POINTS);
         Checks.is("two points fit", Checks.loaded(TWO_POINTS).fitError(0), 0);
         // -100 + 1269 against 500
         Checks.is("three points", x.fitError(0), 669);
-        ThermoscopeGallery y = Checks.loaded("gallery 20 1;spirit s 1;bath a 0;bath m 50;bath n 60;bath b 100;"
+        Replayed y = Checks.loaded("gallery 20 1;spirit s 1;bath a 0;bath m 50;bath n 60;bath b 100;"
                 + "tube s 1 9 999 0;dip 0 a;pass 1;mark 0;fill 0 10;dip 0 m;pass 1;mark 0;fill 0 20;dip 0 n;pass 1;"
                 + "mark 0;fill 0 10;dip 0 b;pass 1;mark 0;");
         // 250 against 500, 750 against 600
         Checks.is("the greatest of two", y.fitError(0), 250);
         y.erasePoint(0, 1);
         Checks.is("the other", y.fitError(0), 150);
-        ThermoscopeGallery z = Checks.loaded(EVEN);
+        Replayed z = Checks.loaded(EVEN);
         Checks.refuses("fitError", z, Checks.ELEMENT, () -> z.fitError(0));
         Checks.refuses("fitError", z, Checks.INDEX, () -> z.fitError(1));
         Checks.refuses("fitError", z, Checks.INDEX, () -> z.fitError(-1));
     }
 
     private static void promise34dipRefusal() {
-        ThermoscopeGallery x = Checks.loaded(EVEN + "tube wine 1 9 999 5;dip 0 b;");
+        Replayed x = Checks.loaded(EVEN + "tube wine 1 9 999 5;dip 0 b;");
         Checks.is("in this bath", x.dipRefusal(0, 1), 1);
         Checks.is("in another bath", x.dipRefusal(0, 0), 0);
         Checks.is("in the room", x.dipRefusal(1, 0), 0);
@@ -178,7 +178,7 @@ public final class ScalesTest {
     }
 
     private static void promise35markRefusal() {
-        ThermoscopeGallery x = Checks.loaded(TWO_POINTS);
+        Replayed x = Checks.loaded(TWO_POINTS);
         refusal("in the room", Checks.loaded(EVEN), 1);
         refusal("in the room, with the thumb", Checks.loaded(EVEN + "thumb 0 5;pass 1;"), 1);
         refusal("not settled", Checks.loaded(EVEN + "dip 0 a;"), 2);
@@ -202,13 +202,13 @@ public final class ScalesTest {
         Checks.refuses("mark", x, Checks.INDEX, () -> x.mark(-1));
     }
 
-    private static void refusal(String what, ThermoscopeGallery x, int reason) {
+    private static void refusal(String what, Replayed x, int reason) {
         Checks.is(what, x.markRefusal(0), reason);
         Checks.refuses(what + ": mark", x, Checks.STATE, () -> x.mark(0));
     }
 
     private static void promise54mark() {
-        ThermoscopeGallery x = Checks.loaded("gallery 20 1;spirit s 10;bath b 100;bath c 0;tube s 20 2 100 5;"
+        Replayed x = Checks.loaded("gallery 20 1;spirit s 10;bath b 100;bath c 0;tube s 20 2 100 5;"
                 + "tube s 1 9 999 3;dip 0 b;dip 1 b;pass 1;");
         Checks.is("refusal", x.markRefusal(0), 0);
         Checks.is("first", x.mark(0), 1);
@@ -223,7 +223,7 @@ public final class ScalesTest {
     }
 
     private static void promise55erasePoint() {
-        ThermoscopeGallery x = Checks.loaded(THREE_POINTS);
+        Replayed x = Checks.loaded(THREE_POINTS);
         Checks.is("erase", x.erasePoint(0, 1), 18);
         Checks.is("points", x.pointCount(0), 2);
         Checks.is("the first stays", x.pointHeight(0, 0), 5);
@@ -242,11 +242,11 @@ public final class ScalesTest {
 
     private static void promises36and38and45comparisons() {
         String two = "tube wine 1 9 999 5;dip 1 a;pass 1;mark 1;fill 1 13;dip 1 b;pass 1;mark 1;";
-        ThermoscopeGallery none = Checks.loaded(EVEN + "dip 0 a;pass 1;mark 0;");
+        Replayed none = Checks.loaded(EVEN + "dip 0 a;pass 1;mark 0;");
         Checks.is("best of none", none.bestTube(), -1);
         Checks.is("worst of none", none.worstFit(), -1);
         Checks.is("spread of none", none.spread(), 0);
-        ThermoscopeGallery x = Checks.loaded(TWO_POINTS + two + "lift 0;lift 1;");
+        Replayed x = Checks.loaded(TWO_POINTS + two + "lift 0;lift 1;");
         Checks.is("the first of two", x.bestTube(), 0);
         Checks.is("the first of two", x.worstFit(), 0);
         Checks.is("spread of equal ones", x.spread(), 0);
@@ -261,11 +261,11 @@ public final class ScalesTest {
         x.pass(1);
         x.mark(1);
         Checks.is("the second has a misfit", x.worstFit(), 1);
-        ThermoscopeGallery one = Checks.loaded(EVEN + two + "room 0;lift 1;pass 1;");
+        Replayed one = Checks.loaded(EVEN + two + "room 0;lift 1;pass 1;");
         Checks.is("only the second has a scale", one.bestTube(), 1);
         Checks.is("only the second has a scale", one.worstFit(), 1);
         Checks.is("spread of one", one.spread(), 0);
-        ThermoscopeGallery low = Checks.loaded("gallery 20 1;spirit s 1;bath a 0;bath b 100;tube s 1 9 999 50;"
+        Replayed low = Checks.loaded("gallery 20 1;spirit s 1;bath a 0;bath b 100;tube s 1 9 999 50;"
                 + "tube s 1 9 999 50;dip 0 a;dip 1 a;pass 1;mark 0;mark 1;fill 0 5;fill 1 4;dip 0 b;dip 1 b;pass 1;"
                 + "mark 0;mark 1;leak 0;leak 1;pass 120;");
         // 43 and 42 are read as 1000 * -7 / 5 and 1000 * -8 / 4; the temperature is 1000.
@@ -273,7 +273,7 @@ public final class ScalesTest {
         Checks.is("spread of readings below 0", low.spread(), 600);
         Checks.is("best", low.bestTube(), 0);
         // -600 and 500, both at 1000
-        ThermoscopeGallery signs = Checks.loaded("gallery 20 1;spirit s 1;bath a 0;bath b 100;tube s 1 9 999 50;"
+        Replayed signs = Checks.loaded("gallery 20 1;spirit s 1;bath a 0;bath b 100;tube s 1 9 999 50;"
                 + "tube s 1 9 999 50;dip 0 a;dip 1 a;pass 1;mark 0;mark 1;fill 0 10;fill 1 10;dip 0 b;dip 1 b;pass 1;"
                 + "mark 0;mark 1;leak 0;leak 1;pass 50;seal 1;pass 110;");
         Checks.is("reading", signs.reading(0), -600);
@@ -287,7 +287,7 @@ public final class ScalesTest {
         for (int tube = 0; tube < 3; tube++) {
             text += "tube s 1 9 999 0;";
         }
-        ThermoscopeGallery x = Checks.loaded(text);
+        Replayed x = Checks.loaded(text);
         int[] middles = {70, 90, 80};
         for (int tube = 0; tube < 3; tube++) {
             x.dip(tube, 0);
@@ -309,7 +309,7 @@ public final class ScalesTest {
     }
 
     private static void promise44disagreement() {
-        ThermoscopeGallery x = Checks.loaded(TWO_POINTS + "tube wine 1 9 999 5;dip 1 a;pass 1;mark 1;fill 1 13;"
+        Replayed x = Checks.loaded(TWO_POINTS + "tube wine 1 9 999 5;dip 1 a;pass 1;mark 1;fill 1 13;"
                 + "dip 1 b;pass 1;mark 1;fill 1 1;tube wine 1 9 999 5;");
         Checks.is("disagreement", x.disagreement(0, 1), 84);
         Checks.is("without sign", x.disagreement(1, 0), 84);
@@ -328,7 +328,7 @@ public final class ScalesTest {
         Checks.is("no points", Checks.loaded(EVEN).bathsToMark(0), 4);
         Checks.is("two points", Checks.loaded(TWO_POINTS).bathsToMark(0), 2);
         Checks.is("two baths with the same degrees", Checks.loaded(THREE_POINTS).bathsToMark(0), 0);
-        ThermoscopeGallery x = Checks.loaded("gallery 20 4;spirit s 1;tube s 1 1 10 0;");
+        Replayed x = Checks.loaded("gallery 20 4;spirit s 1;tube s 1 1 10 0;");
         Checks.is("no baths", x.bathsToMark(0), 0);
         Checks.refuses("bathsToMark", x, Checks.INDEX, () -> x.bathsToMark(1));
         Checks.refuses("bathsToMark", x, Checks.INDEX, () -> x.bathsToMark(-1));
@@ -342,14 +342,14 @@ public final class ScalesTest {
     }
 
     private static void promise64printTube() {
-        ThermoscopeGallery x = Checks.loaded(THREE_POINTS + "spirit u 1;tube u 1 9 10 123;"
+        Replayed x = Checks.loaded(THREE_POINTS + "spirit u 1;tube u 1 9 10 123;"
                 + "tube wine 1 9 999 999;thumb 1 5;");
         Checks.is("scale", Checks.printed(x, 0), "wine 20/999 @1169");
         Checks.is("thumb", Checks.printed(x, 1), "u 10/10*");
         Checks.is("plain", Checks.printed(x, 2), "wine 999/999");
         x.layThumb(0, 5);
         Checks.is("scale and thumb", Checks.printed(x, 0), "wine 20/999 @1169*");
-        ThermoscopeGallery y = Checks.loaded(EVEN + "fill 0 5;dip 0 a;pass 1;mark 0;fill 0 2;dip 0 b;pass 1;mark 0;"
+        Replayed y = Checks.loaded(EVEN + "fill 0 5;dip 0 a;pass 1;mark 0;fill 0 2;dip 0 b;pass 1;mark 0;"
                 + "leak 0;pass 35;");
         // 12 - 3 is read as -100 + 1100 * -1 / 2
         Checks.is("minus sign", Checks.printed(y, 0), "wine 9/999 @-650");
@@ -363,7 +363,7 @@ public final class ScalesTest {
     }
 
     private static void promise65outputByte() {
-        ThermoscopeGallery x = Checks.loaded(EVEN);
+        Replayed x = Checks.loaded(EVEN);
         Checks.refuses("empty", x, Checks.ELEMENT, () -> x.outputByte(0));
         Checks.is("length", x.printTube(0), 10);
         Checks.is("first", x.outputByte(0), 'w');

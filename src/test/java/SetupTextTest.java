@@ -20,7 +20,7 @@ public final class SetupTextTest {
     }
 
     private static void promise2append() {
-        ThermoscopeGallery x = new ThermoscopeGallery();
+        Replayed x = new Replayed();
         int spaces = 0x20202020;
         for (int i = 1; i <= 30; i++) {
             Checks.is("append", x.append(spaces, spaces, spaces, spaces, spaces), 20 * i);
@@ -36,7 +36,7 @@ public final class SetupTextTest {
     }
 
     private static void promise2appendedBytes() {
-        ThermoscopeGallery x = new ThermoscopeGallery();
+        Replayed x = new Replayed();
         // "gall" "ery " "20 4" ";spi" "rit " and "wxyz" " 7;t" "ube " "wxyz" " 1 1" " 10 " "3;" behind it
         Checks.is("append", x.append(0x67616c6c, 0x65727920, 0x32302034, 0x3b737069, 0x72697420), 20);
         Checks.is("append", x.append(0x7778797a, 0x20373b74, 0x75626520, 0x7778797a, 0x20312031), 40);
@@ -50,7 +50,7 @@ public final class SetupTextTest {
     }
 
     private static void promise3truncate() {
-        ThermoscopeGallery x = new ThermoscopeGallery();
+        Replayed x = new Replayed();
         Checks.is("truncate nothing", x.truncate(0), 0);
         Checks.refuses("truncate to 1 of 0", x, Checks.ARGUMENT, () -> x.truncate(1));
         x.append(0, 0, 0, 0, 0);
@@ -68,7 +68,7 @@ public final class SetupTextTest {
     }
 
     private static void promise4load() {
-        ThermoscopeGallery x = new ThermoscopeGallery();
+        Replayed x = new Replayed();
         x.printTube(0);
         String output = Checks.output(x);
         x.save(1);
@@ -92,38 +92,38 @@ public final class SetupTextTest {
     }
 
     private static void promises5and6gallery() {
-        ThermoscopeGallery x = new ThermoscopeGallery();
+        Replayed x = new Replayed();
         Checks.is("code at first", x.errorCode(), 0);
         Checks.is("offset at first", x.errorOffset(), -1);
-        error("^", 1);
-        error("   ^", 1);
-        error("\n^;", 1);
-        error("gallery^", 1);
-        error("gallery ^", 1);
-        error("gallery 20^", 1);
-        error("gallery 20 4^", 1);
-        error("gallery -^", 1);
-        error("gallery^;", 1);
-        error("gallery ^x 4;", 1);
-        error("gallery 20 ^x;", 1);
-        error("gallery 20 ^-4;", 1);
-        error("gallery -^-5 4;", 1);
-        error("gallery 20 4 ^4;", 1);
-        error("gallery 20 4^room 5;", 1);
-        error("^spirit s 4;", 1);
-        error("^galler 20 4;", 1);
-        error("^galleryy 20 4;", 1);
-        error("^gallerx 20 4;", 1);
-        error("^hallery 20 4;", 1);
-        error("^20 4;", 1);
-        error("^;", 1);
-        error("gallery 20 4;^gallery 20 4;", 1);
-        error("gallery 20 4;^;", 1);
-        error("gallery ^151 4;", 2);
-        error("gallery -^21 4;", 2);
-        error("gallery - ^151 4;", 2);
-        error("gallery 20 ^0;", 2);
-        error("gallery 20 ^21;", 2);
+        Checks.error("^", 1);
+        Checks.error("   ^", 1);
+        Checks.error("\n^;", 1);
+        Checks.error("gallery^", 1);
+        Checks.error("gallery ^", 1);
+        Checks.error("gallery 20^", 1);
+        Checks.error("gallery 20 4^", 1);
+        Checks.error("gallery -^", 1);
+        Checks.error("gallery^;", 1);
+        Checks.error("gallery ^x 4;", 1);
+        Checks.error("gallery 20 ^x;", 1);
+        Checks.error("gallery 20 ^-4;", 1);
+        Checks.error("gallery -^-5 4;", 1);
+        Checks.error("gallery 20 4 ^4;", 1);
+        Checks.error("gallery 20 4^room 5;", 1);
+        Checks.error("^spirit s 4;", 1);
+        Checks.error("^galler 20 4;", 1);
+        Checks.error("^galleryy 20 4;", 1);
+        Checks.error("^gallerx 20 4;", 1);
+        Checks.error("^hallery 20 4;", 1);
+        Checks.error("^20 4;", 1);
+        Checks.error("^;", 1);
+        Checks.error("gallery 20 4;^gallery 20 4;", 1);
+        Checks.error("gallery 20 4;^;", 1);
+        Checks.error("gallery ^151 4;", 2);
+        Checks.error("gallery -^21 4;", 2);
+        Checks.error("gallery - ^151 4;", 2);
+        Checks.error("gallery 20 ^0;", 2);
+        Checks.error("gallery 20 ^21;", 2);
         room("gallery 150 20;", 150);
         room("gallery 0 1;", 0);
         room("gallery -20 20;", -20);
@@ -132,22 +132,22 @@ public final class SetupTextTest {
     }
 
     private static void promises5and6tokens() {
-        error("gallery^\t20 4;", 1);
-        error("gallery 20 4;^\r\n", 1);
-        error("gallery 20 4;^\0", 1);
-        error("^Gallery 20 4;", 1);
-        error("gallery 2^.5 4;", 1);
-        error("gallery ^+2 4;", 1);
-        error("gallery 20 4^,", 1);
-        error("gallery 20 4^:", 1);
-        error("gallery 20 4;^`", 1);
-        error("gallery 20 4;^{", 1);
-        error("gallery 20 4;room 2^/", 1);
-        error("gallery 20 4;^\u00e9", 1);
-        error("gallery ^99999999999999999999999999 4;", 2);
-        error("gallery ^4294967316 4;", 2);
-        error("gallery ^18446744073709551636 4;", 2);
-        error("gallery 20 ^1000004;", 2);
+        Checks.error("gallery^\t20 4;", 1);
+        Checks.error("gallery 20 4;^\r\n", 1);
+        Checks.error("gallery 20 4;^\0", 1);
+        Checks.error("^Gallery 20 4;", 1);
+        Checks.error("gallery 2^.5 4;", 1);
+        Checks.error("gallery ^+2 4;", 1);
+        Checks.error("gallery 20 4^,", 1);
+        Checks.error("gallery 20 4^:", 1);
+        Checks.error("gallery 20 4;^`", 1);
+        Checks.error("gallery 20 4;^{", 1);
+        Checks.error("gallery 20 4;room 2^/", 1);
+        Checks.error("gallery 20 4;^\u00e9", 1);
+        Checks.error("gallery ^99999999999999999999999999 4;", 2);
+        Checks.error("gallery ^4294967316 4;", 2);
+        Checks.error("gallery ^18446744073709551636 4;", 2);
+        Checks.error("gallery 20 ^1000004;", 2);
         room("gallery 00000000000000000000000000000020 0004;", 20);
         room("gallery20 4;room-5;", -5);
         room("gallery\n20\n4\n;\n\nroom 7 ; ", 7);
@@ -168,12 +168,12 @@ public final class SetupTextTest {
         while (full.length() < 596) {
             full.append(' ');
         }
-        error(full + "room^", 1);
-        error(full.substring(0, 593) + "room 15^", 1);
+        Checks.error(full + "room^", 1);
+        Checks.error(full.substring(0, 593) + "room 15^", 1);
     }
 
     private static void cut(String text, int length) {
-        ThermoscopeGallery x = new ThermoscopeGallery();
+        Replayed x = new Replayed();
         Checks.put(x, text);
         x.truncate(length);
         Checks.is(text + " cut", x.load(), ThermoscopeGallery.PARSE_ERROR);
@@ -182,30 +182,30 @@ public final class SetupTextTest {
     }
 
     private static void promises5and6names() {
-        error("gallery 20 4;spirit ^abcde 1;", 2);
-        error("gallery 20 4;bath ^abcde 1;", 2);
-        error("gallery 20 4;spirit ^5 5;", 1);
-        error("gallery 20 4;bath ^-5;", 1);
-        error("gallery 20 4;spirit ^;", 1);
-        error("gallery 20 4;spirit ab^;", 1);
-        error("gallery 20 4;spirit s ^0;", 2);
-        error("gallery 20 4;spirit s ^41;", 2);
-        error("gallery 20 4;spirit s ^-1;", 1);
-        error("gallery 20 4;spirit s 1 ^1;", 1);
-        error("gallery 20 4;bath b ^151;", 2);
-        error("gallery 20 4;bath b -^21;", 2);
-        error("gallery 20 4;bath b ^b;", 1);
-        error("gallery 20 4;spirit s 1;spirit ^s 2;", 3);
-        error("gallery 20 4;spirit s 1;bath ^s 2;", 3);
-        error("gallery 20 4;bath s 1;spirit ^s 2;", 3);
-        error("gallery 20 4;bath abcd 1;bath ^abcd 2;", 3);
-        error("gallery 20 4;spirit a 1;spirit b 1;spirit c 1;spirit d 1;spirit e 1;^spirit a;", 5);
-        error("gallery 20 4;bath a 1;bath b 1;bath c 1;bath d 1;^bath", 5);
+        Checks.error("gallery 20 4;spirit ^abcde 1;", 2);
+        Checks.error("gallery 20 4;bath ^abcde 1;", 2);
+        Checks.error("gallery 20 4;spirit ^5 5;", 1);
+        Checks.error("gallery 20 4;bath ^-5;", 1);
+        Checks.error("gallery 20 4;spirit ^;", 1);
+        Checks.error("gallery 20 4;spirit ab^;", 1);
+        Checks.error("gallery 20 4;spirit s ^0;", 2);
+        Checks.error("gallery 20 4;spirit s ^41;", 2);
+        Checks.error("gallery 20 4;spirit s ^-1;", 1);
+        Checks.error("gallery 20 4;spirit s 1 ^1;", 1);
+        Checks.error("gallery 20 4;bath b ^151;", 2);
+        Checks.error("gallery 20 4;bath b -^21;", 2);
+        Checks.error("gallery 20 4;bath b ^b;", 1);
+        Checks.error("gallery 20 4;spirit s 1;spirit ^s 2;", 3);
+        Checks.error("gallery 20 4;spirit s 1;bath ^s 2;", 3);
+        Checks.error("gallery 20 4;bath s 1;spirit ^s 2;", 3);
+        Checks.error("gallery 20 4;bath abcd 1;bath ^abcd 2;", 3);
+        Checks.error("gallery 20 4;spirit a 1;spirit b 1;spirit c 1;spirit d 1;spirit e 1;^spirit a;", 5);
+        Checks.error("gallery 20 4;bath a 1;bath b 1;bath c 1;bath d 1;^bath", 5);
         room("gallery 20 4;spirit s 1;spirit t 40;bath a 150;bath b -20;spirit ss 1;spirit sss 1;spirit ssss 1;"
                 + "bath st 0;bath ts 0;", 20);
         room("gallery 20 4;spirit tube 5;tube tube 1 1 10 0;bath dip 5;dip 0 dip;bath mark -0;", 20);
         room("gallery 20 4;spirit az 5;spirit za 5;spirit zzzz 5;spirit zzz 5;tube zzzz 1 1 10 0;", 20);
-        ThermoscopeGallery x = Checks.loaded("gallery 20 4;bath a 5;bath b -5;bath c 150;bath d -20;");
+        Replayed x = Checks.loaded("gallery 20 4;bath a 5;bath b -5;bath c 150;bath d -20;");
         Checks.is("bath 0", x.bathDegrees(0), 5);
         Checks.is("bath 1", x.bathDegrees(1), -5);
         Checks.is("bath 2", x.bathDegrees(2), 150);
@@ -214,90 +214,90 @@ public final class SetupTextTest {
 
     private static void promises5and6tubes() {
         String start = "gallery 20 4;spirit s 1;bath b 5;";
-        error(start + "tube ^x 1 1 10 0;", 4);
-        error(start + "tube ^b 1 1 10 0;", 4);
-        error(start + "tube ^abcde 1 1 10 0;", 4);
-        error(start + "tube ^0 1 1 10 0;", 1);
-        error(start + "tube s ^0 1 10 0;", 2);
-        error(start + "tube s ^51 1 10 0;", 2);
-        error(start + "tube s 1 ^0 10 0;", 2);
-        error(start + "tube s 1 ^10 10 0;", 2);
-        error(start + "tube s 1 1 ^9 0;", 2);
-        error(start + "tube s 1 1 ^1000 0;", 2);
-        error(start + "tube s 1 1 10 ^1000;", 2);
-        error(start + "tube s 1 1 10^;", 1);
-        error(start + "tube s 1 1 10 ^-1;", 1);
-        error(start + "tube s 1 1 10 0 ^0;", 1);
-        error(start + tubes(8) + "^tube x;", 5);
+        Checks.error(start + "tube ^x 1 1 10 0;", 4);
+        Checks.error(start + "tube ^b 1 1 10 0;", 4);
+        Checks.error(start + "tube ^abcde 1 1 10 0;", 4);
+        Checks.error(start + "tube ^0 1 1 10 0;", 1);
+        Checks.error(start + "tube s ^0 1 10 0;", 2);
+        Checks.error(start + "tube s ^51 1 10 0;", 2);
+        Checks.error(start + "tube s 1 ^0 10 0;", 2);
+        Checks.error(start + "tube s 1 ^10 10 0;", 2);
+        Checks.error(start + "tube s 1 1 ^9 0;", 2);
+        Checks.error(start + "tube s 1 1 ^1000 0;", 2);
+        Checks.error(start + "tube s 1 1 10 ^1000;", 2);
+        Checks.error(start + "tube s 1 1 10^;", 1);
+        Checks.error(start + "tube s 1 1 10 ^-1;", 1);
+        Checks.error(start + "tube s 1 1 10 0 ^0;", 1);
+        Checks.error(start + tubes(8) + "^tube x;", 5);
         Checks.is("8 tubes", Checks.loaded(start + tubes(8)).spiritOf(7), 0);
-        ThermoscopeGallery x = Checks.loaded(start + "tube s 1 1 10 0;spirit t 40;tube t 50 9 999 999;");
+        Replayed x = Checks.loaded(start + "tube s 1 1 10 0;spirit t 40;tube t 50 9 999 999;");
         Checks.is("free height of the least", x.freeHeightAt(0, 1500), 1);
         Checks.is("free height of the greatest", x.freeHeightAt(1, 1500), 999 + 2000 * 1800 / 9000);
     }
 
     private static void promises5and6deeds() {
-        error(START + "leak ^1;", 2);
-        error(START + "leak ^99999999999;", 2);
-        error(START + "leak ^-0;", 1);
-        error(START + "leak ^b;", 1);
-        error(START + "leak 0^", 1);
-        error("gallery 20 4;leak ^0;", 2);
-        error(START + "seal ^1;", 2);
-        error(START + "seal^;", 1);
-        error(START + "dip ^1 b;", 2);
-        error(START + "dip 0 ^s;", 4);
-        error(START + "dip 0 ^bb;", 4);
-        error(START + "dip 0 ^abcdefgh;", 4);
-        error(START + "dip 0 ^0;", 1);
-        error(START + "dip 0 b ^b;", 1);
-        error(START + "lift ^1;", 2);
-        error(START + "mark ^1;", 2);
-        error(START + "thumb ^1 1;", 2);
-        error(START + "thumb 0 ^0;", 2);
-        error(START + "thumb 0 ^61;", 2);
-        error(START + "thumb 0^;", 1);
-        error(START + "fill ^1 1;", 2);
-        error(START + "fill 0 ^0;", 2);
-        error(START + "fill 0 ^1000;", 2);
-        error(START + "erase ^1 0;", 2);
-        error(START + "erase 0 ^0;", 2);
-        error(START + "erase 0 ^-1;", 1);
-        error(START + "dip 0 b;pass 50;mark 0;erase 0 ^1;", 2);
-        error(START + "dip 0 b;pass 50;mark 0;erase 0 0;erase 0 ^0;", 2);
-        error(START + "room ^151;", 2);
-        error(START + "room -^21;", 2);
-        error(START + "room^;", 1);
-        error(START + "pass ^301;", 2);
-        error(START + "pass ^-1;", 1);
-        error(START + "pass^;", 1);
-        error(START + "^duke;", 1);
-        error(START + "^passs 1;", 1);
-        error(START + "room 5;bath c ^151;spirit abcde 1;", 2);
+        Checks.error(START + "leak ^1;", 2);
+        Checks.error(START + "leak ^99999999999;", 2);
+        Checks.error(START + "leak ^-0;", 1);
+        Checks.error(START + "leak ^b;", 1);
+        Checks.error(START + "leak 0^", 1);
+        Checks.error("gallery 20 4;leak ^0;", 2);
+        Checks.error(START + "seal ^1;", 2);
+        Checks.error(START + "seal^;", 1);
+        Checks.error(START + "dip ^1 b;", 2);
+        Checks.error(START + "dip 0 ^s;", 4);
+        Checks.error(START + "dip 0 ^bb;", 4);
+        Checks.error(START + "dip 0 ^abcdefgh;", 4);
+        Checks.error(START + "dip 0 ^0;", 1);
+        Checks.error(START + "dip 0 b ^b;", 1);
+        Checks.error(START + "lift ^1;", 2);
+        Checks.error(START + "mark ^1;", 2);
+        Checks.error(START + "thumb ^1 1;", 2);
+        Checks.error(START + "thumb 0 ^0;", 2);
+        Checks.error(START + "thumb 0 ^61;", 2);
+        Checks.error(START + "thumb 0^;", 1);
+        Checks.error(START + "fill ^1 1;", 2);
+        Checks.error(START + "fill 0 ^0;", 2);
+        Checks.error(START + "fill 0 ^1000;", 2);
+        Checks.error(START + "erase ^1 0;", 2);
+        Checks.error(START + "erase 0 ^0;", 2);
+        Checks.error(START + "erase 0 ^-1;", 1);
+        Checks.error(START + "dip 0 b;pass 50;mark 0;erase 0 ^1;", 2);
+        Checks.error(START + "dip 0 b;pass 50;mark 0;erase 0 0;erase 0 ^0;", 2);
+        Checks.error(START + "room ^151;", 2);
+        Checks.error(START + "room -^21;", 2);
+        Checks.error(START + "room^;", 1);
+        Checks.error(START + "pass ^301;", 2);
+        Checks.error(START + "pass ^-1;", 1);
+        Checks.error(START + "pass^;", 1);
+        Checks.error(START + "^duke;", 1);
+        Checks.error(START + "^passs 1;", 1);
+        Checks.error(START + "room 5;bath c ^151;spirit abcde 1;", 2);
         room(START + "thumb 0 1;thumb 0 60;fill 0 990;room 150;room -20;pass 0;pass 300;", -20);
     }
 
     private static void promises5and6refusals() {
-        error(START + "dip 0 b;dip 0 b^;", 6);
-        error(START + "dip 0 b;dip 0 b ^dip", 1);
-        error(START + "dip 0 b;dip 0 b^", 1);
-        error(START + "thumb 0 1;dip 0 b ^;", 6);
-        error(START + "lift 0^;", 6);
-        error(START + "dip 0 b;lift 0;lift 0^;", 6);
-        error(START + "mark 0^;", 6);
-        error(START + "dip 0 b;mark 0^;", 6);
-        error(START + "dip 0 b;pass 50;thumb 0 1;mark 0^;", 6);
-        error(START + "dip 0 b;pass 50;mark 0;mark 0^;", 6);
-        error(START + "fill 0 991^;", 6);
-        error(START + "fill 0 990;fill 0 1^;", 6);
-        error(START + "fill 0 991 ^1;", 1);
+        Checks.error(START + "dip 0 b;dip 0 b^;", 6);
+        Checks.error(START + "dip 0 b;dip 0 b ^dip", 1);
+        Checks.error(START + "dip 0 b;dip 0 b^", 1);
+        Checks.error(START + "thumb 0 1;dip 0 b ^;", 6);
+        Checks.error(START + "lift 0^;", 6);
+        Checks.error(START + "dip 0 b;lift 0;lift 0^;", 6);
+        Checks.error(START + "mark 0^;", 6);
+        Checks.error(START + "dip 0 b;mark 0^;", 6);
+        Checks.error(START + "dip 0 b;pass 50;thumb 0 1;mark 0^;", 6);
+        Checks.error(START + "dip 0 b;pass 50;mark 0;mark 0^;", 6);
+        Checks.error(START + "fill 0 991^;", 6);
+        Checks.error(START + "fill 0 990;fill 0 1^;", 6);
+        Checks.error(START + "fill 0 991 ^1;", 1);
         room(START + "thumb 0 1;pass 1;dip 0 b;thumb 0 3;lift 0;", 20);
     }
 
     private static void statementsDoWhatTheMethodsDo() {
         String warm = START + "bath c 0;spirit u 2;tube u 9 3 50 40;dip 0 b;dip 1 c;pass 60;mark 0;mark 1;";
-        ThermoscopeGallery byText = Checks.loaded(warm + "leak 0;leak 1;seal 0;dip 1 b;pass 60;mark 1;lift 1;"
+        Replayed byText = Checks.loaded(warm + "leak 0;leak 1;seal 0;dip 1 b;pass 60;mark 1;lift 1;"
                 + "fill 1 7;erase 1 0;room -7;thumb 1 33;thumb 0 44;pass 9;");
-        ThermoscopeGallery byCalls = Checks.loaded(warm);
+        Replayed byCalls = Checks.loaded(warm);
         byCalls.setLeaky(0, true);
         byCalls.setLeaky(1, true);
         byCalls.setLeaky(0, false);
@@ -322,7 +322,7 @@ public final class SetupTextTest {
     }
 
     private static void statementsAreCarriedOutInOrder() {
-        ThermoscopeGallery x = Checks.loaded("gallery 20 4;spirit s 1;room -20;tube s 1 1 10 0;room 50;"
+        Replayed x = Checks.loaded("gallery 20 4;spirit s 1;room -20;tube s 1 1 10 0;room 50;"
                 + "tube s 1 1 10 0;pass 5;tube s 1 1 10 0;");
         Checks.is("temperature of a tube described later", x.temperatureOf(2), 500);
         Checks.is("minute", x.minute(), 5);
@@ -338,21 +338,6 @@ public final class SetupTextTest {
         Checks.load(x, marked);
         Checks.load(x, START);
         Checks.is("behind one with a scale", Checks.state(x), Checks.state(Checks.loaded(START)));
-    }
-
-    /** The mark ^ stands before the token that has the error. */
-    private static void error(String marked, int code) {
-        int offset = marked.indexOf('^');
-        String text = marked.substring(0, offset) + marked.substring(offset + 1);
-        ThermoscopeGallery x = new ThermoscopeGallery();
-        String before = Checks.state(x);
-        Checks.is(marked + " load", Checks.load(x, text), ThermoscopeGallery.PARSE_ERROR);
-        Checks.is(marked + " code", x.errorCode(), code);
-        Checks.is(marked + " offset", x.errorOffset(), offset);
-        Checks.is(marked + " state", Checks.state(x), before);
-        Checks.load(x, "gallery 20 4;");
-        Checks.is("code after success", x.errorCode(), 0);
-        Checks.is("offset after success", x.errorOffset(), -1);
     }
 
     private static void room(String text, int degrees) {

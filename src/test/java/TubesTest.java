@@ -26,7 +26,7 @@ public final class TubesTest {
     }
 
     private static void promise1newObject() {
-        ThermoscopeGallery x = new ThermoscopeGallery();
+        Replayed x = new Replayed();
         Checks.is("first state", Checks.state(x), Checks.state(Checks.loaded(FIRST)));
         Checks.is("code", x.errorCode(), 0);
         Checks.is("offset", x.errorOffset(), -1);
@@ -36,11 +36,11 @@ public final class TubesTest {
         Checks.refuses("undo", x, Checks.STATE, () -> x.undo());
         Checks.refuses("empty buffer", x, Checks.ARGUMENT, () -> x.truncate(1));
         Checks.is("objects have nothing in common", x.setRoom(7), 20);
-        Checks.is("room of another", new ThermoscopeGallery().roomDegrees(), 20);
+        Checks.is("room of another", new Replayed().roomDegrees(), 20);
     }
 
     private static void promises7to10() {
-        ThermoscopeGallery x = Checks.loaded(PLAIN + "tube s 1 1 10 0;dip 0 h;dip 1 h;");
+        Replayed x = Checks.loaded(PLAIN + "tube s 1 1 10 0;dip 0 h;dip 1 h;");
         Checks.is("minute", x.minute(), 0);
         Checks.is("no thumb", x.thumbedTube(), -1);
         Checks.is("no minutes of the thumb", x.thumbLeft(), 0);
@@ -61,7 +61,7 @@ public final class TubesTest {
     }
 
     private static void promises11and12spirits() {
-        ThermoscopeGallery x = Checks.loaded("gallery 20 1;spirit a 40;spirit b 40;spirit c 1;bath h 150;"
+        Replayed x = Checks.loaded("gallery 20 1;spirit a 40;spirit b 40;spirit c 1;bath h 150;"
                 + "tube a 1 9 999 7;tube b 1 9 999 11;tube a 1 9 999 13;tube b 1 9 20 20;");
         Checks.is("spirit a", x.spiritInTubes(0), 20);
         Checks.is("spirit b", x.spiritInTubes(1), 31);
@@ -88,7 +88,7 @@ public final class TubesTest {
     }
 
     private static void promises13to20tubes() {
-        ThermoscopeGallery x = Checks.loaded("gallery -7 4;spirit a 10;spirit b 20;bath c 0;bath h 100;"
+        Replayed x = Checks.loaded("gallery -7 4;spirit a 10;spirit b 20;bath c 0;bath h 100;"
                 + "tube b 20 2 300 5;tube a 1 1 10 999;leak 1;dip 1 h;");
         Checks.is("spirit", x.spiritOf(0), 1);
         Checks.is("spirit", x.spiritOf(1), 0);
@@ -124,7 +124,7 @@ public final class TubesTest {
         for (int i = 0; i < 8; i++) {
             text.append("tube e 1 9 100 ").append(i).append(";dip ").append(i).append(" i;");
         }
-        ThermoscopeGallery x = Checks.loaded(text + "thumb 7 60;");
+        Replayed x = Checks.loaded(text + "thumb 7 60;");
         Checks.is("no machine's exceptions", Checks.state(x).contains("Exception"), false);
         Checks.is("thumbed", x.thumbedTube(), 7);
         Checks.is("all in the last bath", x.tubesIn(3), 8);
@@ -141,7 +141,7 @@ public final class TubesTest {
     }
 
     private static void promise21freeHeightAt() {
-        ThermoscopeGallery x = Checks.loaded("gallery 20 4;spirit a 7;tube a 3 2 10 5;tube a 50 1 10 0;");
+        Replayed x = Checks.loaded("gallery 20 4;spirit a 7;tube a 3 2 10 5;tube a 50 1 10 0;");
         // 5 + 21 * (t + 300) / 2000
         Checks.is("least", x.freeHeightAt(0, -200), 6);
         Checks.is("rounded down", x.freeHeightAt(0, 80), 5 + 3);
@@ -156,7 +156,7 @@ public final class TubesTest {
     }
 
     private static void promise22greatestTemperature() {
-        ThermoscopeGallery x = Checks.loaded(PLAIN + "tube s 20 2 185 5;tube s 20 2 184 5;tube s 20 2 15 5;"
+        Replayed x = Checks.loaded(PLAIN + "tube s 20 2 185 5;tube s 20 2 184 5;tube s 20 2 15 5;"
                 + "tube s 20 2 14 5;tube s 1 1 10 999;");
         Checks.is("length 100", x.greatestTemperature(0), 659);
         Checks.is("just all", x.greatestTemperature(1), 1500);
@@ -176,19 +176,19 @@ public final class TubesTest {
     private static void promises15to17aMinute() {
         int[] warming = {400, 550, 662, 746, 809, 856, 892, 919, 939, 954, 965, 973, 979, 984, 988, 991, 993, 994, 995,
             996, 997, 1000, 1000};
-        ThermoscopeGallery x = Checks.loaded("gallery 20 4;spirit s 1;bath h 100;tube s 1 9 999 5;dip 0 h;");
+        Replayed x = Checks.loaded("gallery 20 4;spirit s 1;bath h 100;tube s 1 9 999 5;dip 0 h;");
         for (int i = 0; i < warming.length; i++) {
             x.pass(1);
             Checks.is("temperature after " + (i + 1), x.temperatureOf(0), warming[i]);
             Checks.is("settled after " + (i + 1), x.isSettled(0), warming[i] == 1000);
         }
         int[] cooling = {150, 113, 85, 64, 48, 36, 27, 21, 16, 12, 9, 7, 6, 5, 4, 3, 0};
-        ThermoscopeGallery y = Checks.loaded("gallery 20 4;spirit s 1;bath c 0;tube s 1 9 999 5;dip 0 c;");
+        Replayed y = Checks.loaded("gallery 20 4;spirit s 1;bath c 0;tube s 1 9 999 5;dip 0 c;");
         for (int i = 0; i < cooling.length; i++) {
             y.pass(1);
             Checks.is("temperature after " + (i + 1), y.temperatureOf(0), cooling[i]);
         }
-        ThermoscopeGallery z = Checks.loaded("gallery 20 20;spirit s 1;bath c 18;bath h 22;tube s 1 9 999 5;dip 0 c;"
+        Replayed z = Checks.loaded("gallery 20 20;spirit s 1;bath c 18;bath h 22;tube s 1 9 999 5;dip 0 c;"
                 + "tube s 1 9 999 5;dip 1 h;");
         z.pass(1);
         Checks.is("gap of the lag", z.temperatureOf(0), 199);
@@ -196,12 +196,12 @@ public final class TubesTest {
         z.pass(1);
         Checks.is("gap below the lag", z.temperatureOf(0), 180);
         Checks.is("gap below the lag", z.temperatureOf(1), 220);
-        ThermoscopeGallery u = Checks.loaded("gallery 150 1;spirit s 1;bath c -20;tube s 1 9 999 5;dip 0 c;pass 1;");
+        Replayed u = Checks.loaded("gallery 150 1;spirit s 1;bath c -20;tube s 1 9 999 5;dip 0 c;pass 1;");
         Checks.is("lag 1", u.temperatureOf(0), -200);
     }
 
     private static void promises16and23and24theThumb() {
-        ThermoscopeGallery x = Checks.loaded("gallery 20 4;spirit s 1;bath h 100;tube s 1 9 999 5;tube s 1 9 999 5;"
+        Replayed x = Checks.loaded("gallery 20 4;spirit s 1;bath h 100;tube s 1 9 999 5;tube s 1 9 999 5;"
                 + "dip 1 h;thumb 1 60;");
         Checks.is("thumbed", x.thumbedTube(), 1);
         Checks.is("left", x.thumbLeft(), 60);
@@ -229,7 +229,7 @@ public final class TubesTest {
     }
 
     private static void promise18leaks() {
-        ThermoscopeGallery x = Checks.loaded("gallery 20 4;spirit s 1;tube s 1 9 999 2;leak 0;tube s 1 9 999 2;");
+        Replayed x = Checks.loaded("gallery 20 4;spirit s 1;tube s 1 9 999 2;leak 0;tube s 1 9 999 2;");
         Checks.is("9 minutes", x.pass(9), 0);
         Checks.is("minute 10", x.pass(1), 1);
         Checks.is("fill", x.fillOf(0), 1);
@@ -241,14 +241,14 @@ public final class TubesTest {
     }
 
     private static void promise14spills() {
-        ThermoscopeGallery x = Checks.loaded("gallery 20 1;spirit s 10;bath h 100;tube s 20 2 100 5;"
+        Replayed x = Checks.loaded("gallery 20 1;spirit s 10;bath h 100;tube s 20 2 100 5;"
                 + "tube s 20 2 100 45;dip 0 h;dip 1 h;");
         // 135 and 175 at 100 degrees: more than the fill of the first
         Checks.is("spilled", x.pass(1), 5 + 45);
         Checks.is("fill", x.fillOf(0), 0);
         Checks.is("height", x.height(0), 100);
         Checks.is("nothing left", x.pass(1), 0);
-        ThermoscopeGallery y = Checks.loaded("gallery 20 1;spirit s 10;tube s 20 2 100 50;tube s 20 2 100 51;"
+        Replayed y = Checks.loaded("gallery 20 1;spirit s 10;tube s 20 2 100 50;tube s 20 2 100 51;"
                 + "tube s 20 2 100 49;");
         Checks.is("just full", y.pass(1), 1);
         Checks.is("fill", y.fillOf(1), 50);
@@ -261,7 +261,7 @@ public final class TubesTest {
     }
 
     private static void leakAndSpillInOneMinute() {
-        ThermoscopeGallery x = Checks.loaded("gallery 20 1;spirit s 10;tube s 20 2 100 49;tube s 20 2 10 0;leak 0;"
+        Replayed x = Checks.loaded("gallery 20 1;spirit s 10;tube s 20 2 100 49;tube s 20 2 10 0;leak 0;"
                 + "leak 1;pass 9;fill 0 4;fill 1 1;");
         // The leak comes first: 53 - 1 + 50 - 100 = 2 are spilled, and nothing is left to be spilled in the other.
         Checks.is("both lose", x.lossAfter(1), 3 + 1);
@@ -273,11 +273,11 @@ public final class TubesTest {
     }
 
     private static void promise33sensitivity() {
-        ThermoscopeGallery x = Checks.loaded("gallery 150 4;spirit s 40;tube s 50 1 10 5;tube s 1 9 10 5;");
+        Replayed x = Checks.loaded("gallery 150 4;spirit s 40;tube s 50 1 10 5;tube s 1 9 10 5;");
         Checks.is("beyond the length and 150 degrees", x.sensitivity(0), 20);
         // 40 * 1800 / 9000 = 8 exactly, 40 * 1810 / 9000 = 8
         Checks.is("none", x.sensitivity(1), 0);
-        ThermoscopeGallery y = Checks.loaded("gallery 20 4;spirit s 7;tube s 3 2 10 5;room 8;pass 60;");
+        Replayed y = Checks.loaded("gallery 20 4;spirit s 7;tube s 3 2 10 5;room 8;pass 60;");
         // 21 * 380 / 2000 = 3, 21 * 390 / 2000 = 4
         Checks.is("one", y.sensitivity(0), 1);
         Checks.refuses("sensitivity", y, Checks.INDEX, () -> y.sensitivity(1));
@@ -285,9 +285,9 @@ public final class TubesTest {
     }
 
     private static void promise37tallestTube() {
-        ThermoscopeGallery x = Checks.loaded("gallery 20 4;spirit s 1;");
+        Replayed x = Checks.loaded("gallery 20 4;spirit s 1;");
         Checks.is("none", x.tallestTube(), -1);
-        ThermoscopeGallery y = Checks.loaded("gallery 20 4;spirit s 1;tube s 1 9 10 0;tube s 1 9 999 7;"
+        Replayed y = Checks.loaded("gallery 20 4;spirit s 1;tube s 1 9 10 0;tube s 1 9 999 7;"
                 + "tube s 1 9 50 7;tube s 1 9 10 5;");
         Checks.is("the first of two", y.tallestTube(), 1);
         y.topUp(3, 900);
@@ -298,10 +298,10 @@ public final class TubesTest {
     }
 
     private static void promises50and51() {
-        ThermoscopeGallery x = Checks.loaded("gallery 20 4;spirit s 1;");
+        Replayed x = Checks.loaded("gallery 20 4;spirit s 1;");
         Checks.is("share of none", x.settledShare(), 0.0f);
         Checks.is("mean of none", x.meanHeight(), 0.0);
-        ThermoscopeGallery y = Checks.loaded("gallery 20 4;spirit s 1;bath h 50;tube s 1 9 999 1;tube s 1 9 999 2;"
+        Replayed y = Checks.loaded("gallery 20 4;spirit s 1;bath h 50;tube s 1 9 999 1;tube s 1 9 999 2;"
                 + "tube s 1 9 10 500;");
         Checks.is("all", y.settledShare(), 1.0f);
         Checks.is("mean", y.meanHeight(), 13.0 / 3.0);
