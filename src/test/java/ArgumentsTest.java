@@ -1,3 +1,9 @@
+import java.io.IOException;
+import java.nio.file.Files;
+import java.nio.file.Path;
+import java.util.Set;
+import java.util.TreeSet;
+
 /**
  * Every "Throws" sentence of the promises: each parameter at its least and greatest value, and just and far beyond
  * both, on objects that have none, one and the most of what it numbers.
@@ -33,7 +39,6 @@ public final class ArgumentsTest {
         new Named("scaleAt", (x, tube) -> x.scaleAt(tube, 0)),
         new Named("fitError", (x, tube) -> x.fitError(tube)),
         new Named("sensitivity", (x, tube) -> x.sensitivity(tube)),
-        new Named("dipRefusal", (x, tube) -> x.dipRefusal(tube, 0)),
         new Named("markRefusal", (x, tube) -> x.markRefusal(tube)),
         new Named("heightAfter", (x, tube) -> x.heightAfter(tube, 0)),
         new Named("temperatureAfter", (x, tube) -> x.temperatureAfter(tube, 0)),
@@ -43,7 +48,6 @@ public final class ArgumentsTest {
         new Named("disagreement, first", (x, tube) -> x.disagreement(tube, 0)),
         new Named("disagreement, second", (x, tube) -> x.disagreement(0, tube)),
         new Named("bathsToMark", (x, tube) -> x.bathsToMark(tube)),
-        new Named("dip", (x, tube) -> x.dip(tube, 0)),
         new Named("lift", (x, tube) -> x.lift(tube)),
         new Named("mark", (x, tube) -> x.mark(tube)),
         new Named("erasePoint", (x, tube) -> x.erasePoint(tube, 0)),
@@ -55,6 +59,12 @@ public final class ArgumentsTest {
     private static final Named[] OF_BATH = {
         new Named("bathDegrees", (x, bath) -> x.bathDegrees(bath)),
         new Named("tubesIn", (x, bath) -> x.tubesIn(bath)),
+    };
+    private static final Named[] DIPS_OF_TUBE = {
+        new Named("dipRefusal", (x, tube) -> x.dipRefusal(tube, 0)),
+        new Named("dip", (x, tube) -> x.dip(tube, 0)),
+    };
+    private static final Named[] DIPS_INTO_BATH = {
         new Named("dipRefusal", (x, bath) -> x.dipRefusal(0, bath)),
         new Named("dip", (x, bath) -> x.dip(0, bath)),
     };
@@ -77,9 +87,12 @@ public final class ArgumentsTest {
         new Named("disagreement, both", (x, tube) -> x.disagreement(tube, tube)),
     };
 
-    public static void main(String[] args) {
+    private static final Set<String> ASKED = new TreeSet<>();
+
+    public static void main(String[] args) throws IOException {
         tubes();
         baths();
+        tubesAndBaths();
         spirits();
         points();
         scales();
@@ -94,7 +107,29 @@ public final class ArgumentsTest {
         refusedTopUps();
         refusedUndos();
         oneWithoutScale();
+        everyThrowsSentence();
         Checks.finish("ArgumentsTest");
+    }
+
+    /** What is asked next of this method is the latest sentence. */
+    private static void asked(String name) {
+        ASKED.add(name.split("[ ,]")[0] + ": " + Checks.sentence());
+    }
+
+    private static void everyThrowsSentence() throws IOException {
+        Checks.sentence("");
+        Set<String> due = new TreeSet<>();
+        String promise = "";
+        for (String line : Files.readAllLines(Path.of("../shared/DOC.md"))) {
+            if (line.startsWith("## Promise ")) {
+                promise = line.replaceAll(".*: ", "");
+            } else if (line.startsWith("Throws ")) {
+                due.add(promise + ": " + line.replace("`", ""));
+            }
+        }
+        Checks.is("sentences", due.size() > 65, true);
+        due.removeAll(ASKED);
+        Checks.is("sentences of which nothing is asked", due.toString(), "[]");
     }
 
     private static String rows(String row, int count) {
@@ -108,6 +143,7 @@ public final class ArgumentsTest {
     /** Numbers from 0 to one less than the count are allowed; what else the call may refuse is not asked here. */
     private static void numbered(Named[] calls, String text, int count, Class<? extends RuntimeException> due) {
         for (Named named : calls) {
+            asked(named.name);
             for (int none : new int[] {Integer.MIN_VALUE, -2, -1, count, count + 1, 9, Integer.MAX_VALUE}) {
                 Replayed x = Checks.loaded(text);
                 String what = named.name + " of " + none + ", where there are " + count;
@@ -133,8 +169,18 @@ public final class ArgumentsTest {
     private static void baths() {
         Checks.sentence("Throws IndexOutOfBoundsException if there is no such bath");
         for (int count : new int[] {0, 1, 4}) {
+            numbered(OF_BATH, "gallery 20 1;" + rows("bath # 5;", count), count, Checks.INDEX);
+        }
+    }
+
+    private static void tubesAndBaths() {
+        Checks.sentence("Throws IndexOutOfBoundsException if there is no such tube or bath");
+        for (int count : new int[] {0, 1, 8}) {
+            numbered(DIPS_OF_TUBE, GALLERY + rows("tube s 1 9 999 5;", count), count, Checks.INDEX);
+        }
+        for (int count : new int[] {0, 1, 4}) {
             String text = "gallery 20 1;spirit s 1;tube s 1 9 999 5;" + rows("bath # 5;", count);
-            numbered(OF_BATH, text, count, Checks.INDEX);
+            numbered(DIPS_INTO_BATH, text, count, Checks.INDEX);
         }
     }
 
@@ -159,6 +205,7 @@ public final class ArgumentsTest {
         Replayed x = Checks.loaded("gallery 20 1;spirit s 1;bath c 0;bath h 100;tube s 1 9 999 5;tube s 1 9 999 5;"
                 + "tube s 1 9 999 5;dip 1 c;pass 1;mark 1;" + two + two.replace(" 0", " 2"));
         for (Named named : OF_SCALE) {
+            asked(named.name);
             Checks.throwing(named.name + " with one point", Checks.ELEMENT, () -> named.call.on(x, 1));
             Checks.throwing(named.name + " with two points", null, () -> named.call.on(x, 0));
             Checks.throwing(named.name + " with two points", null, () -> named.call.on(x, 2));
@@ -171,8 +218,8 @@ public final class ArgumentsTest {
         }
     }
 
-    private static void range(String name, String parameter, int least, int most, Call call) {
-        Checks.sentence("Throws IllegalArgumentException if " + parameter + " is out of range");
+    private static void range(String name, int least, int most, Call call) {
+        asked(name);
         String text = "gallery 20 1;spirit s 1;bath c 0;bath h 100;tube s 1 9 999 0;dip 0 c;pass 1;mark 0;fill 0 1;"
                 + "dip 0 h;pass 1;mark 0;leak 0;pass 10;";
         for (int wrong : new int[] {Integer.MIN_VALUE, least - 2, least - 1, most + 1, most + 2, Integer.MAX_VALUE}) {
@@ -187,20 +234,26 @@ public final class ArgumentsTest {
     }
 
     private static void ranges() {
-        range("freeHeightAt", "tenths", -200, 1500, (x, tenths) -> x.freeHeightAt(0, tenths));
-        range("scaleAt", "height", 0, 999, (x, height) -> x.scaleAt(0, height));
-        range("heightAfter", "minutes", 0, 300, (x, minutes) -> x.heightAfter(0, minutes));
-        range("temperatureAfter", "minutes", 0, 300, (x, minutes) -> x.temperatureAfter(0, minutes));
-        range("minutesUntilHeight", "height", 0, 999, (x, height) -> x.minutesUntilHeight(0, height));
-        range("lossAfter", "minutes", 0, 300, (x, minutes) -> x.lossAfter(minutes));
-        range("layThumb", "minutes", 1, 60, (x, minutes) -> x.layThumb(0, minutes));
-        range("topUp", "amount", 1, 999, (x, amount) -> x.topUp(0, amount));
-        range("setRoom", "degrees", -20, 150, (x, degrees) -> x.setRoom(degrees));
-        range("pass", "minutes", 1, 300, (x, minutes) -> x.pass(minutes));
+        Checks.sentence("Throws IllegalArgumentException if tenths is out of range");
+        range("freeHeightAt", -200, 1500, (x, tenths) -> x.freeHeightAt(0, tenths));
+        Checks.sentence("Throws IllegalArgumentException if height is out of range");
+        range("scaleAt", 0, 999, (x, height) -> x.scaleAt(0, height));
+        range("minutesUntilHeight", 0, 999, (x, height) -> x.minutesUntilHeight(0, height));
+        Checks.sentence("Throws IllegalArgumentException if minutes is out of range");
+        range("heightAfter", 0, 300, (x, minutes) -> x.heightAfter(0, minutes));
+        range("temperatureAfter", 0, 300, (x, minutes) -> x.temperatureAfter(0, minutes));
+        range("lossAfter", 0, 300, (x, minutes) -> x.lossAfter(minutes));
+        range("layThumb", 1, 60, (x, minutes) -> x.layThumb(0, minutes));
+        range("pass", 1, 300, (x, minutes) -> x.pass(minutes));
+        Checks.sentence("Throws IllegalArgumentException if amount is out of range");
+        range("topUp", 1, 999, (x, amount) -> x.topUp(0, amount));
+        Checks.sentence("Throws IllegalArgumentException if degrees is out of range");
+        range("setRoom", -20, 150, (x, degrees) -> x.setRoom(degrees));
     }
 
     private static void lengths() {
         Checks.sentence("Throws IllegalArgumentException if length is negative or greater than the current length");
+        asked("truncate");
         for (int current : new int[] {0, 1, 20, 599, 600}) {
             for (int wrong : new int[] {Integer.MIN_VALUE, -1, current + 1, 601, Integer.MAX_VALUE}) {
                 Replayed x = new Replayed();
@@ -222,6 +275,7 @@ public final class ArgumentsTest {
         numbered(new Named[] {new Named("save", (x, slot) -> x.save(slot))}, GALLERY, 2, Checks.INDEX);
         numbered(new Named[] {new Named("restore", (x, slot) -> x.restore(slot))}, GALLERY, 2, Checks.INDEX);
         Checks.sentence("Throws IllegalStateException if nothing is saved there");
+        asked("restore");
         for (int slot = 0; slot <= 1; slot++) {
             int one = slot;
             Replayed x = Checks.loaded(GALLERY);
@@ -235,6 +289,7 @@ public final class ArgumentsTest {
 
     private static void outputBytes() {
         Checks.sentence("Throws NoSuchElementException if there is no such byte");
+        asked("outputByte");
         Replayed x = Checks.loaded(GALLERY + "spirit wxyz 1;tube wxyz 1 9 999 999;tube s 1 9 10 5;");
         for (int index : new int[] {Integer.MIN_VALUE, -1, 0, 1, Integer.MAX_VALUE}) {
             Checks.throwing("an empty text", Checks.ELEMENT, () -> x.outputByte(index));
@@ -256,6 +311,7 @@ public final class ArgumentsTest {
 
     private static void fullBuffers() {
         Checks.sentence("Throws IllegalStateException if the buffer would hold more than 600 bytes");
+        asked("append");
         for (int current : new int[] {0, 1, 20, 579, 580, 581, 582, 599, 600}) {
             Replayed x = new Replayed();
             Checks.put(x, rows(" ", current));
@@ -269,6 +325,7 @@ public final class ArgumentsTest {
 
     private static void refuses(String what, String text, Named... calls) {
         for (Named named : calls) {
+            asked(named.name);
             Replayed x = Checks.loaded(text);
             Checks.refuses(named.name + " " + what, x, Checks.STATE, () -> named.call.on(x, 0));
         }
@@ -316,6 +373,7 @@ public final class ArgumentsTest {
 
     private static void refusedUndos() {
         Checks.sentence("Throws IllegalStateException if there is no change to undo");
+        asked("undo");
         Replayed x = Checks.loaded(TWO_TUBES);
         Checks.is("the load", x.undo(), 0);
         for (int i = 0; i < 2; i++) {
@@ -325,6 +383,7 @@ public final class ArgumentsTest {
 
     private static void oneWithoutScale() {
         Checks.sentence("Throws NoSuchElementException if one of them has no scale");
+        asked("disagreement");
         Replayed x = Checks.loaded(TWO_TUBES + "mark 0;fill 0 1;dip 0 h;pass 1;mark 0;");
         Checks.refuses("the second", x, Checks.ELEMENT, () -> x.disagreement(0, 1));
         Checks.refuses("the first", x, Checks.ELEMENT, () -> x.disagreement(1, 0));

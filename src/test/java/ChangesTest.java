@@ -21,8 +21,11 @@ public final class ChangesTest {
 
     private static void promise49spiritDifference() {
         Replayed x = Checks.loaded(START + "leak 0;leak 1;fill 0 50;pass 33;fill 1 9;");
+        Checks.sentence("Checks the spirits: the fills of all tubes as the text describes them plus all that was"
+                + " added minus the fills now and the losses.");
         Checks.is("after a text", x.spiritDifference(), 0);
         x.topUp(0, 200);
+        Checks.sentence("Returns the difference, which is always 0.");
         Checks.is("after topUp", x.spiritDifference(), 0);
         Checks.is("losses", x.pass(300) > 100, true);
         Checks.is("after losses", x.spiritDifference(), 0);
@@ -33,6 +36,7 @@ public final class ChangesTest {
 
     private static void promise52dip() {
         Replayed x = Checks.loaded(START);
+        Checks.sentence("A tube is dipped into a bath.");
         Checks.is("dip", x.dip(0, 1), 1000);
         Checks.is("bath", x.bathOf(0), 1);
         Checks.is("the other one", x.bathOf(1), -1);
@@ -52,6 +56,7 @@ public final class ChangesTest {
 
     private static void promise53lift() {
         Replayed x = Checks.loaded(START + "dip 0 h;dip 1 c;");
+        Checks.sentence("A tube is lifted from its bath into the room.");
         Checks.is("lift", x.lift(0), 1);
         Checks.is("room", x.bathOf(0), -1);
         Checks.is("lift", x.lift(1), 0);
@@ -67,12 +72,14 @@ public final class ChangesTest {
 
     private static void promise56layThumb() {
         Replayed x = Checks.loaded(START);
+        Checks.sentence("The thumb is laid on a tube.");
         Checks.is("from none", x.layThumb(1, 60), -1);
         Checks.is("from another", x.layThumb(0, 1), 1);
         Checks.is("minutes", x.thumbLeft(), 1);
         Checks.is("from itself", x.layThumb(0, 9), 0);
         Checks.is("minutes", x.thumbLeft(), 9);
         Checks.is("tube", x.thumbedTube(), 0);
+        Checks.sentence("minutes: 1 to 60");
         for (int minutes : new int[] {0, 61, -1, Integer.MIN_VALUE, Integer.MAX_VALUE}) {
             Checks.refuses("layThumb", x, Checks.ARGUMENT, () -> x.layThumb(0, minutes));
             Checks.refuses("layThumb on no tube", x, Checks.INDEX, () -> x.layThumb(2, minutes));
@@ -84,6 +91,7 @@ public final class ChangesTest {
 
     private static void promise57topUp() {
         Replayed x = Checks.loaded(START);
+        Checks.sentence("Spirit is added to a tube.");
         Checks.is("topUp", x.topUp(0, 1), 6);
         Checks.is("fill", x.fillOf(0), 6);
         Checks.is("the other one", x.fillOf(1), 7);
@@ -91,11 +99,13 @@ public final class ChangesTest {
         Checks.is("to the most", x.topUp(0, 993), 999);
         Checks.refuses("full", x, Checks.STATE, () -> x.topUp(0, 1));
         Checks.refuses("the most", x, Checks.STATE, () -> x.topUp(1, 999));
+        Checks.sentence("amount: 1 to 999");
         for (int amount : new int[] {0, 1000, -1, Integer.MIN_VALUE, Integer.MAX_VALUE}) {
             Checks.refuses("topUp", x, Checks.ARGUMENT, () -> x.topUp(0, amount));
             Checks.refuses("topUp of no tube", x, Checks.INDEX, () -> x.topUp(2, amount));
         }
         Checks.refuses("topUp of no tube", x, Checks.INDEX, () -> x.topUp(-1, 1));
+        Checks.sentence("Returns the fill afterwards.");
         Replayed y = Checks.loaded("gallery 20 1;spirit s 10;tube s 20 2 100 0;");
         Checks.is("the most at once", y.topUp(0, 999), 999);
         Checks.is("height", y.height(0), 100);
@@ -103,6 +113,7 @@ public final class ChangesTest {
 
     private static void promise58setRoom() {
         Replayed x = Checks.loaded(START + "dip 1 h;");
+        Checks.sentence("Sets the temperature of the room.");
         Checks.is("setRoom", x.setRoom(-20), 20);
         Checks.is("setRoom", x.setRoom(150), -20);
         Checks.is("setRoom", x.setRoom(150), 150);
@@ -110,6 +121,7 @@ public final class ChangesTest {
         Checks.is("surroundings", x.surroundingsOf(0), 1500);
         Checks.is("surroundings in a bath", x.surroundingsOf(1), 1000);
         Checks.is("temperature", x.temperatureOf(0), 200);
+        Checks.sentence("degrees: -20 to 150");
         for (int degrees : new int[] {-21, 151, Integer.MIN_VALUE, Integer.MAX_VALUE}) {
             Checks.refuses("setRoom", x, Checks.ARGUMENT, () -> x.setRoom(degrees));
         }
@@ -117,10 +129,12 @@ public final class ChangesTest {
 
     private static void promise59setLeaky() {
         Replayed x = Checks.loaded(START);
+        Checks.sentence("Sets whether a tube is leaky.");
         Checks.is("setLeaky", x.setLeaky(0, true), false);
         Checks.is("leaky", x.isLeaky(0), true);
         Checks.is("the other one", x.isLeaky(1), false);
         Checks.is("setLeaky", x.setLeaky(0, true), true);
+        Checks.sentence("isLeaky: whether it is leaky afterwards");
         Checks.is("setLeaky", x.setLeaky(0, false), true);
         Checks.is("leaky", x.isLeaky(0), false);
         Checks.is("setLeaky", x.setLeaky(0, false), false);
@@ -132,11 +146,13 @@ public final class ChangesTest {
 
     private static void promise60pass() {
         Replayed x = Checks.loaded(START + "leak 1;dip 0 h;");
+        Checks.sentence("Minutes pass.");
         // 135 of 100, but only 5 to spill
         Checks.is("pass", x.pass(1), 5);
         Checks.is("minute", x.minute(), 1);
         Checks.is("pass", x.pass(300), 7);
         Checks.is("minute", x.minute(), 301);
+        Checks.sentence("minutes: 1 to 300");
         for (int minutes : new int[] {0, -1, 301, Integer.MIN_VALUE, Integer.MAX_VALUE}) {
             Checks.refuses("pass", x, Checks.ARGUMENT, () -> x.pass(minutes));
         }
@@ -149,6 +165,7 @@ public final class ChangesTest {
         Replayed x = Checks.loaded(START + "pass 3;thumb 0 9;");
         Checks.refuses("nothing is saved", x, Checks.STATE, () -> x.restore(0));
         String first = Checks.state(x);
+        Checks.sentence("Returns the minute number.");
         Checks.is("save", x.save(0), 3);
         Checks.is("saving is no change", x.undo(), 0);
         Checks.is("restore after undo", x.restore(0), 3);
@@ -173,6 +190,7 @@ public final class ChangesTest {
         Checks.is("undo", x.undo(), 5);
         Checks.is("undo of the restore before", x.undo(), 4);
         Checks.is("minute of the pass", x.minute(), 303);
+        Checks.sentence("slot: 0 or 1");
         for (int slot : new int[] {-1, 2, Integer.MIN_VALUE, Integer.MAX_VALUE}) {
             Checks.refuses("save", x, Checks.INDEX, () -> x.save(slot));
             Checks.refuses("restore", x, Checks.INDEX, () -> x.restore(slot));

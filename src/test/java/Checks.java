@@ -53,6 +53,10 @@ final class Checks {
         sentence = words;
     }
 
+    static String sentence() {
+        return sentence;
+    }
+
     /** The call must throw just this class and leave every answer as it was. */
     static void refuses(String what, Replayed x, Class<? extends RuntimeException> due, IntSupplier call) {
         String before = answers(x);

@@ -16,14 +16,19 @@ public final class ForecastTest {
     private static void promises39and40after() {
         Replayed x = Checks.loaded(WARMING + "tube s 20 2 300 5;");
         int[] tenths = {200, 400, 550, 662, 746};
+        Checks.sentence("Returns its temperature in tenths after so many minutes.");
         for (int i = 0; i < tenths.length; i++) {
             Checks.is("temperature after " + i, x.temperatureAfter(0, i), tenths[i]);
+        }
+        Checks.sentence("Returns its height after so many minutes.");
+        for (int i = 0; i < tenths.length; i++) {
             Checks.is("height after " + i, x.heightAfter(0, i), Math.min(110, 5 + (tenths[i] + 300) / 10));
         }
         Checks.is("temperature after 300", x.temperatureAfter(0, 300), 1000);
         Checks.is("height after 300", x.heightAfter(0, 300), 110);
         Checks.is("the other one", x.temperatureAfter(1, 300), 200);
         Checks.is("the other one", x.heightAfter(1, 300), 55);
+        Checks.sentence("minutes: 0 to 300");
         for (int minutes : new int[] {-1, 301, Integer.MIN_VALUE, Integer.MAX_VALUE}) {
             Checks.refuses("heightAfter", x, Checks.ARGUMENT, () -> x.heightAfter(0, minutes));
             Checks.refuses("temperatureAfter", x, Checks.ARGUMENT, () -> x.temperatureAfter(0, minutes));
@@ -93,6 +98,7 @@ public final class ForecastTest {
         Checks.is("its length", x.minutesUntilHeight(0, 110), 5);
         Checks.is("more than its length", x.minutesUntilHeight(0, 111), -1);
         Checks.is("never", x.minutesUntilHeight(0, 999), -1);
+        Checks.sentence("height: 0 to 999");
         for (int height : new int[] {-1, 1000, Integer.MIN_VALUE, Integer.MAX_VALUE}) {
             Checks.refuses("minutesUntilHeight", x, Checks.ARGUMENT, () -> x.minutesUntilHeight(0, height));
             Checks.refuses("minutesUntilHeight of no tube", x, Checks.INDEX, () -> x.minutesUntilHeight(1, height));
@@ -113,6 +119,7 @@ public final class ForecastTest {
         Checks.is("pass tells the same", x.pass(10), 4);
         Checks.is("losses before do not count", x.lossAfter(0), 0);
         Checks.is("losses before do not count", x.lossAfter(10), 1);
+        Checks.sentence("minutes: 0 to 300");
         for (int minutes : new int[] {-1, 301, Integer.MIN_VALUE, Integer.MAX_VALUE}) {
             Checks.refuses("lossAfter", x, Checks.ARGUMENT, () -> x.lossAfter(minutes));
         }

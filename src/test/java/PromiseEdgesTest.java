@@ -764,7 +764,7 @@ public final class PromiseEdgesTest {
     }
 
     private static void promise65outputByte() {
-        Checks.sentence("index of a byte of the output text, from 0");
+        Checks.sentence("index: index of a byte of the output text, from 0");
         Replayed x = Checks.loaded("gallery 20 1;spirit az 1;tube az 1 9 10 0;");
         x.printTube(0);
         String text = "az 0/10";

@@ -33,10 +33,15 @@ public final class ScalesTest {
         int[] heights = {5, 18, 20};
         Checks.is("points", x.pointCount(0), 3);
         Checks.is("no points", Checks.loaded(EVEN).pointCount(0), 0);
+        Checks.sentence("Returns the degrees of the point.");
         for (int i = 0; i < 3; i++) {
             Checks.is("degrees", x.pointDegrees(0, i), degrees[i]);
+        }
+        Checks.sentence("Returns the height of the point.");
+        for (int i = 0; i < 3; i++) {
             Checks.is("height", x.pointHeight(0, i), heights[i]);
         }
+        Checks.sentence("point: number of a point, from 0");
         for (int point : new int[] {-1, 3, 5, 6, Integer.MIN_VALUE, Integer.MAX_VALUE}) {
             Checks.refuses("pointDegrees " + point, x, Checks.ELEMENT, () -> x.pointDegrees(0, point));
             Checks.refuses("pointHeight " + point, x, Checks.ELEMENT, () -> x.pointHeight(0, point));
@@ -49,6 +54,7 @@ public final class ScalesTest {
 
     private static void promise28hasScale() {
         Replayed x = Checks.loaded(EVEN + "dip 0 a;pass 1;");
+        Checks.sentence("Returns whether it has a scale.");
         Checks.is("no point", x.hasScale(0), false);
         x.mark(0);
         Checks.is("one point", x.hasScale(0), false);
@@ -59,8 +65,10 @@ public final class ScalesTest {
 
     private static void promises29and30reading() {
         Replayed x = Checks.loaded(THREE_POINTS);
+        Checks.sentence("Returns its reading in tenths.");
         // -100 + 1100 * 15 / 13
         Checks.is("reading", x.reading(0), 1169);
+        Checks.sentence("Returns its reading minus its temperature, in tenths.");
         Checks.is("reading error", x.readingError(0), 669);
         Replayed y = Checks.loaded(EVEN + "tube wine 1 9 10 50;dip 1 a;pass 1;mark 1;");
         Checks.refuses("reading with one point", y, Checks.ELEMENT, () -> y.reading(1));
@@ -71,6 +79,7 @@ public final class ScalesTest {
         Checks.refuses("reading", y, Checks.INDEX, () -> y.reading(-1));
         Checks.refuses("readingError", y, Checks.INDEX, () -> y.readingError(2));
         Checks.refuses("readingError", y, Checks.INDEX, () -> y.readingError(-1));
+        Checks.sentence("Returns its reading minus its temperature, in tenths.");
         Replayed z = Checks.loaded("gallery 20 1;spirit s 1;bath a 0;bath b 100;tube s 1 9 20 10;dip 0 a;"
                 + "pass 1;mark 0;fill 0 5;dip 0 b;pass 1;mark 0;room 90;lift 0;pass 1;");
         Checks.is("error below 0 is none", z.readingError(0), 100);
@@ -83,6 +92,7 @@ public final class ScalesTest {
 
     private static void promise31scaleAt() {
         Replayed x = Checks.loaded(TWO_POINTS);
+        Checks.sentence("Returns what its scale tells for this height, in tenths.");
         Checks.is("lower point", x.scaleAt(0, 5), -100);
         Checks.is("upper point", x.scaleAt(0, 18), 1000);
         Checks.is("the quotient is truncated, not the sum", x.scaleAt(0, 6), -100 + 84);
@@ -90,6 +100,7 @@ public final class ScalesTest {
         Checks.is("least", x.scaleAt(0, 0), -100 - 423);
         Checks.is("greatest", x.scaleAt(0, 999), -100 + 84107);
         Replayed y = Checks.loaded(EVEN);
+        Checks.sentence("height: 0 to 999");
         for (int height : new int[] {-1, 1000, Integer.MIN_VALUE, Integer.MAX_VALUE}) {
             Checks.refuses("scaleAt " + height, x, Checks.ARGUMENT, () -> x.scaleAt(0, height));
             Checks.refuses("scaleAt without a scale", y, Checks.ARGUMENT, () -> y.scaleAt(0, height));
@@ -210,7 +221,9 @@ public final class ScalesTest {
     private static void promise54mark() {
         Replayed x = Checks.loaded("gallery 20 1;spirit s 10;bath b 100;bath c 0;tube s 20 2 100 5;"
                 + "tube s 1 9 999 3;dip 0 b;dip 1 b;pass 1;");
+        Checks.sentence("A point is marked.");
         Checks.is("refusal", x.markRefusal(0), 0);
+        Checks.sentence("Returns the number of its points afterwards.");
         Checks.is("first", x.mark(0), 1);
         Checks.is("first of another", x.mark(1), 1);
         Checks.is("height at the end of the tube", x.pointHeight(0, 0), 100);
@@ -224,6 +237,7 @@ public final class ScalesTest {
 
     private static void promise55erasePoint() {
         Replayed x = Checks.loaded(THREE_POINTS);
+        Checks.sentence("Returns the height of the point.");
         Checks.is("erase", x.erasePoint(0, 1), 18);
         Checks.is("points", x.pointCount(0), 2);
         Checks.is("the first stays", x.pointHeight(0, 0), 5);
@@ -317,6 +331,7 @@ public final class ScalesTest {
         Checks.refuses("no scale", x, Checks.ELEMENT, () -> x.disagreement(0, 2));
         Checks.refuses("no scale", x, Checks.ELEMENT, () -> x.disagreement(2, 0));
         Checks.refuses("no scale", x, Checks.ELEMENT, () -> x.disagreement(2, 2));
+        Checks.sentence("other: number of a tube");
         for (int none : new int[] {-1, 3, Integer.MIN_VALUE, Integer.MAX_VALUE}) {
             Checks.refuses("no tube", x, Checks.INDEX, () -> x.disagreement(0, none));
             Checks.refuses("no tube", x, Checks.INDEX, () -> x.disagreement(none, 0));
@@ -335,8 +350,11 @@ public final class ScalesTest {
     }
 
     private static void promise48missedPoints() {
+        Checks.sentence("Checks the scales.");
         Checks.is("no tubes", Checks.loaded("gallery 20 4;").missedPoints(), 0);
         Checks.is("no scale", Checks.loaded(EVEN).missedPoints(), 0);
+        Checks.sentence("Returns the number of lower and upper points of scales for whose height the scale does not"
+                + " tell ten times their degrees");
         Checks.is("two points", Checks.loaded(TWO_POINTS).missedPoints(), 0);
         Checks.is("a third one with a misfit", Checks.loaded(THREE_POINTS).missedPoints(), 0);
     }
@@ -366,6 +384,7 @@ public final class ScalesTest {
         Replayed x = Checks.loaded(EVEN);
         Checks.refuses("empty", x, Checks.ELEMENT, () -> x.outputByte(0));
         Checks.is("length", x.printTube(0), 10);
+        Checks.sentence("Returns the byte.");
         Checks.is("first", x.outputByte(0), 'w');
         Checks.is("last", x.outputByte(9), '9');
         for (int index : new int[] {-1, 10, Integer.MIN_VALUE, Integer.MAX_VALUE}) {

@@ -1,10 +1,14 @@
+import java.util.function.ToIntBiFunction;
+
 /** Promises 2 to 6 and the setup text: the input buffer, every statement's form, ranges and error codes. */
 public final class SetupTextTest {
+    private static final int BLANKS = 0x20202020;
     private static final String START = "gallery 20 4;spirit s 40;tube s 50 1 99 9;bath b 150;";
 
     public static void main(String[] args) {
         promise2append();
         promise2appendedBytes();
+        promise2parameters();
         promise3truncate();
         promise4load();
         promises5and6gallery();
@@ -49,15 +53,47 @@ public final class SetupTextTest {
         Checks.is("bytes above 127: offset", x.errorOffset(), 13);
     }
 
+    private static void promise2parameters() {
+        Checks.sentence("a: first four bytes");
+        only(0, (x, four) -> x.append(four, BLANKS, BLANKS, BLANKS, BLANKS));
+        Checks.sentence("b: next four bytes");
+        only(4, (x, four) -> x.append(BLANKS, four, BLANKS, BLANKS, BLANKS));
+        Checks.sentence("c: next four bytes");
+        only(8, (x, four) -> x.append(BLANKS, BLANKS, four, BLANKS, BLANKS));
+        Checks.sentence("d: next four bytes");
+        only(12, (x, four) -> x.append(BLANKS, BLANKS, BLANKS, four, BLANKS));
+        Checks.sentence("e: last four bytes");
+        only(16, (x, four) -> x.append(BLANKS, BLANKS, BLANKS, BLANKS, four));
+    }
+
+    /** Among blanks the four letters are a bath's name, and the next text goes on behind them. */
+    private static void only(int place, ToIntBiFunction<Replayed, Integer> append) {
+        String letters = "abcd";
+        Replayed x = new Replayed();
+        String text = "gallery 20 1;spirit s 1;tube s 1 9 10 0;bath abce 1;bath ";
+        Checks.put(x, text);
+        Checks.is("length", append.applyAsInt(x, Checks.four(letters, 0)), text.length() + 20);
+        Checks.put(x, "2;dip 0 " + letters + ";");
+        Checks.is("load", x.load(), 1);
+        Checks.is("the bath of that name", x.bathOf(0), 1);
+        Replayed y = new Replayed();
+        append.applyAsInt(y, Checks.four(letters, 0));
+        y.load();
+        Checks.is("place", y.errorOffset(), place);
+    }
+
     private static void promise3truncate() {
         Replayed x = new Replayed();
+        Checks.sentence("Shortens the input buffer.");
         Checks.is("truncate nothing", x.truncate(0), 0);
         Checks.refuses("truncate to 1 of 0", x, Checks.ARGUMENT, () -> x.truncate(1));
         x.append(0, 0, 0, 0, 0);
         Checks.refuses("truncate to 21 of 20", x, Checks.ARGUMENT, () -> x.truncate(21));
         Checks.refuses("truncate to -1", x, Checks.ARGUMENT, () -> x.truncate(-1));
         Checks.refuses("truncate to the least", x, Checks.ARGUMENT, () -> x.truncate(Integer.MIN_VALUE));
+        Checks.sentence("length: new length");
         Checks.is("truncate to 20", x.truncate(20), 20);
+        Checks.sentence("Returns the new length.");
         Checks.is("truncate to 7", x.truncate(7), 7);
         Checks.refuses("truncate to 8 of 7", x, Checks.ARGUMENT, () -> x.truncate(8));
         Checks.is("append behind it", x.append(0, 0, 0, 0, 0), 27);

@@ -9,6 +9,7 @@ public final class TermsEdgesTest {
     private static final String RISING = "gallery 20 1;spirit s 10;bath c 0;bath h 100;";
 
     public static void main(String[] args) {
+        tenths();
         degrees();
         fiveSpirits();
         spiritNames();
@@ -20,6 +21,7 @@ public final class TermsEdgesTest {
         fills();
         firstTemperatures();
         notLeaky();
+        leakyOrNot();
         freeHeights();
         heights();
         fourBaths();
@@ -37,6 +39,7 @@ public final class TermsEdgesTest {
         markReasonSettled();
         markReasonDegrees();
         markReasonHeight();
+        markReasonSix();
         markOrder();
         pointsOfCutHeights();
         scales();
@@ -57,6 +60,23 @@ public final class TermsEdgesTest {
     }
 
     // ---- Temperatures ----
+
+    private static void tenths() {
+        Checks.sentence("A degree has ten tenths.");
+        Replayed x = Checks.loaded("gallery 7 1;spirit s 1;bath c -3;bath h 100;tube s 1 9 999 5;dip 0 c;");
+        Checks.is("of the room at first", x.temperatureOf(0), 70);
+        Checks.is("of a bath", x.surroundingsOf(0), -30);
+        x.pass(1);
+        x.mark(0);
+        x.topUp(0, 1);
+        Checks.is("of another bath", x.dip(0, 1), 1000);
+        x.pass(1);
+        x.mark(0);
+        Checks.is("of a point", x.scaleAt(0, 5), -30);
+        x.setRoom(150);
+        x.lift(0);
+        Checks.is("of the room", x.surroundingsOf(0), 1500);
+    }
 
     private static void degrees() {
         Checks.sentence("The room and the baths have whole degrees from -20 to 150.");
@@ -178,6 +198,17 @@ public final class TermsEdgesTest {
         Replayed x = Checks.loaded(EVEN + "leak 1;");
         Checks.is("described", x.isLeaky(0), false);
         Checks.is("leaks", x.isLeaky(1), true);
+    }
+
+    private static void leakyOrNot() {
+        Checks.sentence("and it is leaky or not.");
+        Replayed x = Checks.loaded(EVEN + "leak 0;leak 1;seal 1;");
+        Checks.is("leaky", x.isLeaky(0), true);
+        Checks.is("not", x.isLeaky(1), false);
+        Checks.is("only the leaky one loses", x.pass(10), 1);
+        Checks.is("not leaky any more", x.setLeaky(0, false), true);
+        Checks.is("not", x.isLeaky(0), false);
+        Checks.is("none loses", x.pass(10), 0);
     }
 
     private static void freeHeights() {
@@ -433,6 +464,19 @@ public final class TermsEdgesTest {
                 + "dip 0 h;pass 1;"), 4);
     }
 
+    /** With a point for each of four baths there is none left that reason 3 would not name first. */
+    private static void markReasonSix() {
+        Checks.sentence("5 it has 6 points.");
+        String text = "gallery 20 1;spirit s 1;bath a 70;bath b -20;bath c 150;bath d 0;tube s 1 9 999 100;";
+        for (String name : new String[] {"a", "b", "c", "d"}) {
+            reason("a point less", Checks.loaded(text + "dip 0 " + name + ";pass 1;"), 0);
+            text += "dip 0 " + name + ";pass 1;mark 0;fill 0 1;";
+        }
+        for (String name : new String[] {"a", "b", "c"}) {
+            reason("four points", Checks.loaded(text + "dip 0 " + name + ";pass 1;"), 3);
+        }
+    }
+
     private static void markOrder() {
         Checks.sentence("the first of these reasons that applies");
         reason("1 before 2", Checks.loaded(EVEN + "room 30;"), 1);
@@ -497,7 +541,9 @@ public final class TermsEdgesTest {
     }
 
     private static void truncatedQuotients() {
-        Checks.sentence("and the division is truncated. (The quotient is added to 10 * d.)");
+        Checks.sentence("The scale tells for a height h the tenths 10 * d + 10 * (e - d) * (h - a) / (b - a), where"
+                + " d and a are the degrees and the height of the lower point, e and b those of the upper point,"
+                + " and the division is truncated. (The quotient is added to 10 * d.)");
         // -100 at 100, 0 at 107: 100 / 7 = 14.28
         Replayed x = Checks.loaded("gallery 20 1;spirit s 1;bath a -10;bath b 0;tube s 1 9 999 100;dip 0 a;pass 1;"
                 + "mark 0;fill 0 7;dip 0 b;pass 1;mark 0;");
@@ -563,7 +609,8 @@ public final class TermsEdgesTest {
     }
 
     private static void lags() {
-        Checks.sentence("If g without sign is less than the lag (1 to 20) of the gallery, the temperature becomes"
+        Checks.sentence("First, its temperature changes: let g be the temperature of its surroundings minus its own"
+                + " one. If g without sign is less than the lag (1 to 20) of the gallery, the temperature becomes"
                 + " that of the surroundings; otherwise it changes by g divided by the lag, truncated.");
         // lag, g, the change after one minute and after two
         int[][] rows = {{1, 10, 10, 10}, {1, 1700, 1700, 1700}, {2, 10, 5, 7}, {9, 10, 1, 2}, {10, 10, 1, 10},

@@ -1,11 +1,11 @@
+import java.util.function.Consumer;
+
 /** The input buffer and "Setup text" of DOC.md: each sentence that names an edge has a test of its own. */
 public final class TextEdgesTest {
     private static final String GALLERY = "gallery 20 1;";
     // Every statement below can follow: tube 0 is in h, settled, and has one point.
     private static final String START = GALLERY + "spirit s 1;bath c 0;bath h 100;tube s 1 9 999 0;tube s 1 9 999 5;"
             + "dip 0 c;pass 1;mark 0;fill 0 3;dip 0 h;pass 1;";
-    private static final String SIX = "6: the semicolon of a dip, lift, mark or fill statement for which the method"
-            + " dip, lift, mark or topUp would throw an IllegalStateException.";
 
     public static void main(String[] args) {
         sixHundredBytes();
@@ -19,9 +19,17 @@ public final class TextEdgesTest {
         blanks();
         semicolons();
         minusSigns();
+        signs();
         galleryFirst();
         galleryNumbers();
         forms();
+        newSpirit();
+        newBath();
+        newTube();
+        dips();
+        lifts();
+        marks();
+        rooms();
         tubeNumbers();
         pointNumbers();
         thumbNumbers();
@@ -206,6 +214,27 @@ public final class TextEdgesTest {
         }
     }
 
+    private static void signs() {
+        Checks.sentence("a minus sign (byte 45) or a semicolon.");
+        for (int b = 0; b < 256; b++) {
+            String minus = GALLERY + "room " + (char) b + "7;";
+            String semicolon = GALLERY + "room 7" + (char) b;
+            if (b == 45) {
+                Checks.is("the minus sign", Checks.loaded(minus).roomDegrees(), -7);
+            } else if (b < '0' && b != 32 && b != 10 || b > '9') {
+                Checks.errorAt(minus, 18, 1);
+            }
+            if (b == 59) {
+                Checks.is("the semicolon", Checks.loaded(semicolon).roomDegrees(), 7);
+            } else {
+                boolean goesOn = b >= '0' && b <= '9' || b == 32 || b == 10;
+                Checks.errorAt(semicolon, goesOn ? 20 : 19, 1);
+            }
+        }
+        Checks.error(GALLERY + "room -^-7;", 1);
+        Checks.error(GALLERY + "room 7;^;", 1);
+    }
+
     // ---- Statements ----
 
     private static void galleryFirst() {
@@ -273,6 +302,81 @@ public final class TextEdgesTest {
         return first >= 'a' && first <= 'z' ? 'a' : first >= '0' && first <= '9' ? '0' : first;
     }
 
+    private static void newSpirit() {
+        Checks.sentence("spirit NAME EXPANSION: a spirit.");
+        Replayed x = Checks.loaded(GALLERY + "spirit ab 3;spirit cde 40;tube cde 50 1 10 0;tube ab 50 1 10 0;");
+        Checks.is("name", Checks.printed(x, 0), "cde 10/10");
+        Checks.is("name", Checks.printed(x, 1), "ab 10/10");
+        Checks.is("expansion", x.freeHeightAt(0, 1500), 3600);
+        Checks.is("expansion", x.freeHeightAt(1, 1500), 270);
+        Checks.refuses("a third", x, Checks.INDEX, () -> x.spiritLost(2));
+    }
+
+    private static void newBath() {
+        Checks.sentence("bath NAME DEGREES: a bath.");
+        Replayed x = Checks.loaded(GALLERY + "bath ab -20;bath cde 149;spirit s 1;tube s 1 9 10 0;dip 0 cde;");
+        Checks.is("degrees", x.bathDegrees(0), -20);
+        Checks.is("degrees", x.bathDegrees(1), 149);
+        Checks.is("name", x.bathOf(0), 1);
+        Checks.refuses("a third", x, Checks.INDEX, () -> x.bathDegrees(2));
+    }
+
+    private static void newTube() {
+        Checks.sentence("tube SPIRIT BULB BORE LENGTH FILL: a tube with a spirit (a name), which is not leaky.");
+        Replayed x = Checks.loaded(GALLERY + "spirit s 1;spirit t 20;tube t 30 4 500 60;");
+        Checks.is("spirit", x.spiritOf(0), 1);
+        Checks.is("fill", x.fillOf(0), 60);
+        Checks.is("bulb and bore", x.freeHeightAt(0, 700), 60 + 30 * 20 * 1000 / 4000);
+        Checks.is("length", Checks.printed(x, 0), "t 135/500");
+        Checks.is("not leaky", x.isLeaky(0), false);
+        Checks.is("in the room", x.bathOf(0), -1);
+        Checks.is("without points", x.pointCount(0), 0);
+    }
+
+    /** Behind START the statement does what the method does. */
+    private static void sameAs(String statement, Consumer<Replayed> method) {
+        Replayed x = Checks.loaded(START);
+        String before = Checks.state(x);
+        method.accept(x);
+        String after = Checks.state(x);
+        Checks.is(statement + " changes something", after.equals(before), false);
+        Checks.is(statement, Checks.state(Checks.loaded(START + statement)), after);
+    }
+
+    private static void dips() {
+        Checks.sentence("dip TUBE BATH: a tube is dipped into a bath (a name).");
+        sameAs("dip 0 c;", x -> x.dip(0, 0));
+        sameAs("dip 1 h;", x -> x.dip(1, 1));
+        Replayed x = Checks.loaded(START + "dip 1 c;");
+        Checks.is("bath", x.bathOf(1), 0);
+        Checks.is("bath of the other one", x.bathOf(0), 1);
+        Checks.is("the temperature stays", x.temperatureOf(1), 200);
+    }
+
+    private static void lifts() {
+        Checks.sentence("lift TUBE: a tube is lifted into the room, as by the method lift.");
+        sameAs("lift 0;", x -> x.lift(0));
+        Checks.is("in the room", Checks.loaded(START + "lift 0;").bathOf(0), -1);
+    }
+
+    private static void marks() {
+        Checks.sentence("mark TUBE: a point is marked.");
+        sameAs("mark 0;", x -> x.mark(0));
+        Replayed x = Checks.loaded(START + "mark 0;");
+        Checks.is("points", x.pointCount(0), 2);
+        Checks.is("degrees", x.pointDegrees(0, 1), 100);
+        Checks.is("height", x.pointHeight(0, 1), 3);
+    }
+
+    private static void rooms() {
+        Checks.sentence("room DEGREES: the temperature of the room is set.");
+        sameAs("room -7;", x -> x.setRoom(-7));
+        Replayed x = Checks.loaded(START + "room 150;");
+        Checks.is("degrees", x.roomDegrees(), 150);
+        Checks.is("surroundings", x.surroundingsOf(1), 1500);
+        Checks.is("surroundings in a bath", x.surroundingsOf(0), 1000);
+    }
+
     private static void tubeNumbers() {
         Checks.sentence("also the number of a tube or point that does not exist");
         Checks.range(START + "leak ", 0, 1, ";");
@@ -295,7 +399,8 @@ public final class TextEdgesTest {
     }
 
     private static void pointNumbers() {
-        Checks.sentence("erase TUBE POINT: a point (a number) of a tube is erased");
+        Checks.sentence("erase TUBE POINT: a point (a number) of a tube is erased, as by the method erasePoint.");
+        sameAs("erase 0 0;", x -> x.erasePoint(0, 0));
         Checks.errorAt(START + "erase 1 0;", START.length() + 8, 2);
         Checks.range(START + "erase 0 ", 0, 0, ";");
         Checks.range(START + "mark 0;erase 0 ", 0, 1, ";");
@@ -312,7 +417,8 @@ public final class TextEdgesTest {
     }
 
     private static void fillNumbers() {
-        Checks.sentence("fill TUBE AMOUNT: spirit is added to a tube, 1 to 999");
+        Checks.sentence("fill TUBE AMOUNT: spirit is added to a tube, 1 to 999, as by the method topUp.");
+        sameAs("fill 1 7;", x -> x.topUp(1, 7));
         String empty = GALLERY + "spirit s 1;tube s 1 9 999 0;";
         Checks.is("least", Checks.loaded(empty + "fill 0 1;").fillOf(0), 1);
         Checks.is("most", Checks.loaded(empty + "fill 0 999;").fillOf(0), 999);
@@ -327,8 +433,12 @@ public final class TextEdgesTest {
     }
 
     private static void leakAndSeal() {
-        Checks.sentence("seal TUBE: a tube is not leaky any more.");
+        Checks.sentence("leak TUBE: a tube (a number) becomes leaky.");
+        sameAs("leak 1;", x -> x.setLeaky(1, true));
+        Checks.is("leaky", Checks.loaded(START + "leak 1;").isLeaky(1), true);
+        Checks.is("not the other one", Checks.loaded(START + "leak 1;").isLeaky(0), false);
         Checks.is("twice leaky", Checks.loaded(START + "leak 0;leak 0;").isLeaky(0), true);
+        Checks.sentence("seal TUBE: a tube is not leaky any more.");
         Checks.is("sealed", Checks.loaded(START + "leak 0;leak 1;seal 0;").isLeaky(0), false);
         Checks.is("not the other one", Checks.loaded(START + "leak 0;leak 1;seal 0;").isLeaky(1), true);
         Checks.is("it was not leaky", Checks.loaded(START + "seal 0;").isLeaky(0), false);
@@ -467,7 +577,8 @@ public final class TextEdgesTest {
     }
 
     private static void code6Dip() {
-        Checks.sentence(SIX);
+        Checks.sentence("6: the semicolon of a dip, lift, mark or fill statement for which the method dip, lift,"
+                + " mark or topUp would throw an IllegalStateException.");
         Checks.error(START + "dip 0 h^;", 6);
         Checks.error(START + "thumb 0 1;dip 0 c ^;", 6);
         Checks.error(START + "thumb 1 60;pass 59;dip 1 c^;", 6);
@@ -476,7 +587,8 @@ public final class TextEdgesTest {
     }
 
     private static void code6Lift() {
-        Checks.sentence(SIX);
+        Checks.sentence("6: the semicolon of a dip, lift, mark or fill statement for which the method dip, lift,"
+                + " mark or topUp would throw an IllegalStateException.");
         Checks.error(START + "lift 1^;", 6);
         Checks.error(START + "lift 0;lift 0^;", 6);
         Checks.loaded(START + "lift 0;");
@@ -484,7 +596,8 @@ public final class TextEdgesTest {
     }
 
     private static void code6Mark() {
-        Checks.sentence(SIX);
+        Checks.sentence("6: the semicolon of a dip, lift, mark or fill statement for which the method dip, lift,"
+                + " mark or topUp would throw an IllegalStateException.");
         Checks.error(START + "mark 1^;", 6);
         Checks.error(START + "lift 0;mark 0^;", 6);
         Checks.error(START + "dip 0 c;mark 0^;", 6);
@@ -498,7 +611,8 @@ public final class TextEdgesTest {
     }
 
     private static void code6Fill() {
-        Checks.sentence(SIX);
+        Checks.sentence("6: the semicolon of a dip, lift, mark or fill statement for which the method dip, lift,"
+                + " mark or topUp would throw an IllegalStateException.");
         Checks.error(START + "fill 1 995^;", 6);
         Checks.error(START + "fill 1 994;fill 1 1^;", 6);
         Checks.error(START + "fill 1 999^;", 6);

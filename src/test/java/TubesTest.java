@@ -41,19 +41,24 @@ public final class TubesTest {
 
     private static void promises7to10() {
         Replayed x = Checks.loaded(PLAIN + "tube s 1 1 10 0;dip 0 h;dip 1 h;");
+        Checks.sentence("Returns the minute number.");
         Checks.is("minute", x.minute(), 0);
         Checks.is("no thumb", x.thumbedTube(), -1);
         Checks.is("no minutes of the thumb", x.thumbLeft(), 0);
         x.pass(300);
         x.pass(7);
         Checks.is("minute", x.minute(), 307);
+        Checks.sentence("Returns the degrees of the room.");
         Checks.is("room", x.roomDegrees(), 20);
+        Checks.sentence("Returns its degrees.");
         Checks.is("cold bath", x.bathDegrees(0), 0);
         Checks.is("hot bath", x.bathDegrees(1), 100);
+        Checks.sentence("Returns the number of tubes in it.");
         Checks.is("tubes in the cold bath", x.tubesIn(0), 0);
         Checks.is("tubes in the hot bath", x.tubesIn(1), 2);
         x.lift(0);
         Checks.is("tubes in the hot bath", x.tubesIn(1), 1);
+        Checks.sentence("bath: number of a bath");
         for (int bath : new int[] {-1, 2, 4, Integer.MIN_VALUE, Integer.MAX_VALUE}) {
             Checks.refuses("bathDegrees " + bath, x, Checks.INDEX, () -> x.bathDegrees(bath));
             Checks.refuses("tubesIn " + bath, x, Checks.INDEX, () -> x.tubesIn(bath));
@@ -63,6 +68,7 @@ public final class TubesTest {
     private static void promises11and12spirits() {
         Replayed x = Checks.loaded("gallery 20 1;spirit a 40;spirit b 40;spirit c 1;bath h 150;"
                 + "tube a 1 9 999 7;tube b 1 9 999 11;tube a 1 9 999 13;tube b 1 9 20 20;");
+        Checks.sentence("Returns the sum of the fills of all tubes with this spirit.");
         Checks.is("spirit a", x.spiritInTubes(0), 20);
         Checks.is("spirit b", x.spiritInTubes(1), 31);
         Checks.is("spirit c", x.spiritInTubes(2), 0);
@@ -81,6 +87,7 @@ public final class TubesTest {
         x.topUp(0, 100);
         Checks.is("adding is no negative loss", x.spiritLost(0), 4);
         Checks.is("spirit a", x.spiritInTubes(0), 116);
+        Checks.sentence("spirit: number of a spirit");
         for (int spirit : new int[] {-1, 3, 5, Integer.MIN_VALUE, Integer.MAX_VALUE}) {
             Checks.refuses("spiritInTubes " + spirit, x, Checks.INDEX, () -> x.spiritInTubes(spirit));
             Checks.refuses("spiritLost " + spirit, x, Checks.INDEX, () -> x.spiritLost(spirit));
@@ -90,22 +97,31 @@ public final class TubesTest {
     private static void promises13to20tubes() {
         Replayed x = Checks.loaded("gallery -7 4;spirit a 10;spirit b 20;bath c 0;bath h 100;"
                 + "tube b 20 2 300 5;tube a 1 1 10 999;leak 1;dip 1 h;");
+        Checks.sentence("Returns its spirit.");
         Checks.is("spirit", x.spiritOf(0), 1);
         Checks.is("spirit", x.spiritOf(1), 0);
+        Checks.sentence("Returns its fill.");
         Checks.is("fill", x.fillOf(0), 5);
         Checks.is("fill", x.fillOf(1), 999);
+        Checks.sentence("Returns its temperature in tenths.");
         Checks.is("temperature", x.temperatureOf(0), -70);
+        Checks.sentence("Returns the temperature of its surroundings in tenths.");
         Checks.is("surroundings", x.surroundingsOf(0), -70);
         Checks.is("surroundings", x.surroundingsOf(1), 1000);
+        Checks.sentence("Returns whether it is settled.");
         Checks.is("settled", x.isSettled(0), true);
         Checks.is("settled", x.isSettled(1), false);
+        Checks.sentence("Returns whether it is leaky.");
         Checks.is("leaky", x.isLeaky(0), false);
         Checks.is("leaky", x.isLeaky(1), true);
+        Checks.sentence("Returns the bath in which it is, -1 if it is in the room.");
         Checks.is("bath", x.bathOf(0), -1);
         Checks.is("bath", x.bathOf(1), 1);
+        Checks.sentence("Returns its height.");
         // 5 + 400 * 230 / 2000
         Checks.is("height", x.height(0), 51);
         Checks.is("height at the end of the tube", x.height(1), 10);
+        Checks.sentence("tube: number of a tube");
         for (int tube : new int[] {-1, 2, 8, Integer.MIN_VALUE, Integer.MAX_VALUE}) {
             Checks.refuses("spiritOf", x, Checks.INDEX, () -> x.spiritOf(tube));
             Checks.refuses("fillOf", x, Checks.INDEX, () -> x.fillOf(tube));
@@ -141,6 +157,7 @@ public final class TubesTest {
     }
 
     private static void promise21freeHeightAt() {
+        Checks.sentence("Returns its free height at this temperature.");
         Replayed x = Checks.loaded("gallery 20 4;spirit a 7;tube a 3 2 10 5;tube a 50 1 10 0;");
         // 5 + 21 * (t + 300) / 2000
         Checks.is("least", x.freeHeightAt(0, -200), 6);
@@ -148,6 +165,7 @@ public final class TubesTest {
         Checks.is("one tenth more", x.freeHeightAt(0, 81), 5 + 4);
         Checks.is("greatest", x.freeHeightAt(0, 1500), 5 + 18);
         Checks.is("above the length", x.freeHeightAt(1, 1500), 630);
+        Checks.sentence("tenths: a temperature in tenths, -200 to 1500");
         for (int tenths : new int[] {-201, 1501, Integer.MIN_VALUE, Integer.MAX_VALUE}) {
             Checks.refuses("freeHeightAt", x, Checks.ARGUMENT, () -> x.freeHeightAt(0, tenths));
             Checks.refuses("freeHeightAt of no tube", x, Checks.INDEX, () -> x.freeHeightAt(2, tenths));

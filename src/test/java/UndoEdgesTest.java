@@ -427,7 +427,10 @@ public final class UndoEdgesTest {
     }
 
     private static void firstState() {
-        Checks.sentence("Before the first successful call of load the state is as if this text had been loaded");
+        Checks.sentence("Before the first successful call of load the state is as if this text had been loaded:"
+                + " \"gallery 20 4;spirit wine 10;spirit oil 6;bath ice 0;bath boil 100;tube wine 20 2 300 5;tube"
+                + " oil 30 3 90 8;dip 0 ice;dip 1 boil;pass 40;mark 0;mark 1;dip 0 boil;pass 40;mark 0;lift 0;leak"
+                + " 1;thumb 1 3;pass 2;\".");
         String text = "gallery 20 4;spirit wine 10;spirit oil 6;bath ice 0;bath boil 100;tube wine 20 2 300 5;"
                 + "tube oil 30 3 90 8;dip 0 ice;dip 1 boil;pass 40;mark 0;mark 1;dip 0 boil;pass 40;mark 0;lift 0;"
                 + "leak 1;thumb 1 3;pass 2;";
@@ -446,7 +449,7 @@ public final class UndoEdgesTest {
     }
 
     private static void parseError() {
-        Checks.sentence("PARSE_ERROR = -7: The result of load if the text has an error.");
+        Checks.sentence("The constants: PARSE_ERROR = -7: The result of load if the text has an error.");
         Replayed x = new Replayed();
         Checks.is("the constant", ThermoscopeGallery.PARSE_ERROR, -7);
         Checks.is("of an empty text", x.load(), -7);
@@ -455,7 +458,8 @@ public final class UndoEdgesTest {
     }
 
     private static void fiveHundredAndTwelveCalls() {
-        Checks.sentence("An object is used for at most 512 calls after it has been made");
+        Checks.sentence("An object is used for at most 512 calls after it has been made; what later calls answer is"
+                + " free.");
         ThermoscopeGallery passing = new ThermoscopeGallery();
         int lost = 0;
         for (int i = 1; i <= 511; i++) {
