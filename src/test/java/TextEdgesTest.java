@@ -10,6 +10,7 @@ public final class TextEdgesTest {
     public static void main(String[] args) {
         sixHundredBytes();
         fullOfBlanks();
+        cutTexts();
         appendedBytes();
         bytesBetweenStatements();
         bytesInNames();
@@ -88,6 +89,29 @@ public final class TextEdgesTest {
         Checks.errorAt("\n \n", 3, 1);
         Checks.errorAt(filled("", 600, ' '), 600, 1);
         Checks.errorAt(filled("", 600, '\n'), 600, 1);
+    }
+
+    /** What stood behind the end before it was cut does not belong to the last token. */
+    private static void cutTexts() {
+        Checks.sentence("Shortens the input buffer.");
+        cut("gallery", 6, 0);
+        cut(GALLERY + "room", 16, 13);
+        cut(GALLERY + "room 7;", 19, 19);
+        String all = START + "spirit t 12;bath d -15;seal 1;leak 1;mark 0;erase 0 0;lift 0;thumb 1 12;fill 1 12;"
+                + "room 151;";
+        for (int length = 0; length <= all.length(); length++) {
+            Replayed x = new Replayed();
+            Checks.load(x, all.substring(0, length));
+            cut(all, length, x.errorOffset());
+        }
+    }
+
+    private static void cut(String text, int length, int offset) {
+        Replayed x = new Replayed();
+        Checks.put(x, text);
+        x.truncate(length);
+        x.load();
+        Checks.is("offset of " + text + ", cut to " + length, x.errorOffset(), offset);
     }
 
     private static void appendedBytes() {
